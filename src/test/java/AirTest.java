@@ -1,0 +1,64 @@
+/** Promise 15: air, with the check and the whitening. */
+public final class AirTest {
+    public static void main(String[] args) {
+        knownBytes();
+        everyChannel();
+        beforeItWasSpoilt();
+        wrongInputs();
+        Checks.end();
+    }
+
+    /** Worked out by hand from the document's words: channel 5, an empty packet. */
+    private static void knownBytes() {
+        AttributeLink x = Links.fresh();
+        x.attribute(40, 3, 4660, 2);
+        x.begin(1, 1);
+        x.run(1);
+        Checks.due("eleven bytes", 11, x.air(false, -1));
+        Checks.due("the first byte", 27, x.air(false, 0));
+        Checks.due("twelve bytes", 12, x.air(true, -1));
+        Checks.dueBytes("the server's packet",
+                Radio.whiten(Radio.packet(2, 1, 0, 3, 0, 4, 0, 11, 0x12, 0x34), 5), Links.air(x, true));
+    }
+
+    private static void everyChannel() {
+        AttributeLink x = Links.fresh();
+        for (int k = 0; k < 37; k++) {
+            x.run(1);
+            int flag = k % 2;
+            Checks.dueBytes("channel " + x.look(0), Radio.whiten(Radio.packet(1, flag, flag), x.look(0)),
+                    Links.air(x, false));
+            Checks.dueBytes("channel " + x.look(0), Radio.whiten(Radio.packet(1, 1 - flag, flag), x.look(0)),
+                    Links.air(x, true));
+        }
+    }
+
+    private static void beforeItWasSpoilt() {
+        AttributeLink x = Links.fresh();
+        x.event(0, -1, 0);
+        Checks.dueBytes("spoilt", Radio.packet(1, 0, 0), Links.packet(x, false));
+        Checks.dueNoSuchElement("the server had nothing to answer", () -> x.air(true, -1));
+        x.event(Links.LOST_UP, 0, 0);
+        Checks.dueBytes("lost", Radio.packet(1, 0, 0), Links.packet(x, false));
+        x.event(0, 0, -1);
+        Checks.dueBytes("the server's, spoilt", Radio.packet(1, 1, 0), Links.packet(x, true));
+        int[] before = Links.air(x, true);
+        x.event(Links.LOST_UP, 0, 0);
+        Checks.dueBytes("the server's latest one stays", before, Links.air(x, true));
+    }
+
+    private static void wrongInputs() {
+        AttributeLink x = Links.fresh();
+        for (boolean server : new boolean[] {false, true}) {
+            Checks.dueNoSuchElement("none", () -> x.air(server, 0));
+            Checks.dueNoSuchElement("none", () -> x.air(server, 99));
+        }
+        x.run(1);
+        for (boolean server : new boolean[] {false, true}) {
+            Checks.due("an empty packet", 5, x.air(server, -1));
+            for (int k : new int[] {5, 12, -2, Integer.MIN_VALUE, Integer.MAX_VALUE}) {
+                Checks.dueOutOfBounds("byte " + k, () -> x.air(server, k));
+            }
+        }
+    }
+}

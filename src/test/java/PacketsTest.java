@@ -1,0 +1,55 @@
+/** What a device makes of a good packet that was not sent like this (promises 8 and 15). */
+public final class PacketsTest {
+    public static void main(String[] args) {
+        highBitsDoNotCount();
+        lengthMustFit();
+        spoiltAcknowledgement();
+        spoiltTurn();
+        Checks.end();
+    }
+
+    private static void highBitsDoNotCount() {
+        AttributeLink x = Links.fresh();
+        for (int bit = 16; bit <= 128; bit *= 2) {
+            Checks.due("good", 3, x.event(0, Radio.spoil(bit), Radio.spoil(bit)));
+        }
+        Checks.dueBytes("the turns went on", Radio.packet(1, 1, 1), Links.packet(x, false));
+    }
+
+    private static void lengthMustFit() {
+        AttributeLink x = Links.fresh();
+        int[] empty = Radio.packet(1, 0, 0);
+        for (int length : new int[] {1, 7, 8, 255}) {
+            int[] other = Radio.checked(empty[0], length);
+            int[] difference = new int[8];
+            for (int k = 0; k < 5; k++) {
+                difference[k] = empty[k] ^ other[k];
+            }
+            Checks.due("length " + length, 0, x.event(0, Links.number(difference), 0));
+        }
+    }
+
+    private static void spoiltAcknowledgement() {
+        AttributeLink x = Links.with(Links.BOTH, 1);
+        x.run(1);
+        x.tell(1, false);
+        x.event(Links.LOST_DOWN, 0, 0);
+        Checks.dueBytes("the row is on its way", Links.bytes(3, 0, 4, 0, 27, 1, 1), Links.piece(x, true));
+        x.event(0, Radio.spoil(Radio.FLIP_NEXT), 0);
+        Checks.dueBytes("the server believes that it has come", Links.bytes(), Links.piece(x, true));
+        x.run(5);
+        Checks.dueNoSuchElement("it never came", () -> x.note(0, -1));
+    }
+
+    private static void spoiltTurn() {
+        AttributeLink x = Links.with(Links.BOTH, 1, 2, 3, 4);
+        x.raw(Links.number(18, 1, 9, 8), 4);
+        x.run(1);
+        Checks.due("good, but there already", 3, x.event(0, Radio.spoil(Radio.FLIP_TURN, 0), 0));
+        Checks.dueBytes("not taken", Links.bytes(1, 2, 3, 4), Links.value(x, 1));
+        Checks.dueBytes("not acknowledged", Links.bytes(8), Links.piece(x, false));
+        x.run(1);
+        Checks.dueBytes("sent again", Links.bytes(8), Links.piece(x, false));
+        Checks.dueBytes("taken", Links.bytes(9, 8), Links.value(x, 1));
+    }
+}

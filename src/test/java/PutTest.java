@@ -1,0 +1,49 @@
+/** Promise 3: put. */
+public final class PutTest {
+    public static void main(String[] args) {
+        behindAndInPlace();
+        upToSixteen();
+        wrongInputs();
+        Checks.end();
+    }
+
+    private static void behindAndInPlace() {
+        AttributeLink x = Links.with(0, 1, 2, 3);
+        Checks.due("behind", 5, x.put(1, false, 0x99040506L, 2));
+        Checks.dueBytes("behind", Links.bytes(1, 2, 3, 5, 6), Links.value(x, 1));
+        Checks.due("nothing behind", 5, x.put(1, false, 7, 0));
+        Checks.due("in its place", 1, x.put(1, true, 0x1FFL, 1));
+        Checks.dueBytes("in its place", Links.bytes(255), Links.value(x, 1));
+        Checks.due("nothing in its place", 0, x.put(1, true, 7, 0));
+        Checks.dueBytes("nothing in its place", Links.bytes(), Links.value(x, 1));
+        Checks.due("eight", 8, x.put(1, false, 0x8182838485868788L, 8));
+        Checks.dueBytes("eight", Links.bytes(0x81, 0x82, 0x83, 0x84, 0x85, 0x86, 0x87, 0x88), Links.value(x, 1));
+    }
+
+    private static void upToSixteen() {
+        AttributeLink x = Links.with(0, 1, 2, 3, 4, 5, 6, 7, 8);
+        x.attribute(0, 0, 5, 1);
+        Checks.due("fifteen", 15, x.put(1, false, 0, 7));
+        Checks.dueIllegalState("seventeen", () -> x.put(1, false, 0, 2));
+        Checks.due("a refused put leaves the value alone", 15, x.value(1, -1));
+        Checks.due("sixteen", 16, x.put(1, false, 3, 1));
+        Checks.dueIllegalState("seventeen", () -> x.put(1, false, 0, 1));
+        Checks.due("none behind sixteen", 16, x.put(1, false, 0, 0));
+        Checks.dueIllegalArgument("n is looked at first", () -> x.put(1, false, 0, 9));
+        Checks.due("anew", 8, x.put(1, true, 0, 8));
+        Checks.due("the other attribute is left alone", 5, x.value(2, 0));
+    }
+
+    private static void wrongInputs() {
+        AttributeLink x = Links.with(0, 1);
+        for (int handle : new int[] {-1, 0, 2, 11, Integer.MIN_VALUE, Integer.MAX_VALUE}) {
+            Checks.dueIllegalArgument("handle " + handle, () -> x.put(handle, true, 0, 0));
+        }
+        for (int n : new int[] {-1, 9, Integer.MIN_VALUE, Integer.MAX_VALUE}) {
+            Checks.dueIllegalArgument("n " + n, () -> x.put(1, true, 0, n));
+        }
+        Checks.dueBytes("nothing was put", Links.bytes(1), Links.value(x, 1));
+        AttributeLink y = Links.broken();
+        Checks.due("the host may put when the link is down", 2, y.put(1, false, 1, 1));
+    }
+}

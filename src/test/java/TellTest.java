@@ -1,0 +1,95 @@
+/** Promise 4: tell. */
+public final class TellTest {
+    public static void main(String[] args) {
+        tells();
+        indicates();
+        cutsToTheLimit();
+        rowsThatWait();
+        wrongInputs();
+        Checks.end();
+    }
+
+    private static void tells() {
+        AttributeLink x = Links.with(0, 1, 2, 3);
+        x.tell(1, false);
+        x.put(1, true, 9, 1);
+        Checks.due("nothing is indicated", 0, x.look(8));
+        x.run(1);
+        Checks.dueBytes("27 h v in pieces of seven", Radio.packet(2, 1, 0, 5, 0, 4, 0, 27, 1, 1), Links.packet(x, true));
+        x.run(1);
+        Checks.dueBytes("the rest", Radio.packet(1, 0, 1, 2, 3), Links.packet(x, true));
+        Checks.dueBytes("the value as it was then", Links.bytes(1, 1, 2, 3), Links.note(x, 0));
+        x.run(1);
+        Checks.dueBytes("the client confirms nothing", Radio.packet(1, 0, 0), Links.packet(x, false));
+    }
+
+    private static void indicates() {
+        AttributeLink x = Links.with(0, 4);
+        x.tell(1, true);
+        Checks.due("at once", 1, x.look(8));
+        Checks.dueIllegalState("a second one", () -> x.tell(1, true));
+        x.tell(1, false);
+        x.run(1);
+        Checks.dueBytes("29 h v", Radio.packet(2, 1, 0, 3, 0, 4, 0, 29, 1, 4), Links.packet(x, true));
+        Checks.due("not yet confirmed", 1, x.look(8));
+        Checks.dueIllegalState("not yet confirmed", () -> x.tell(1, true));
+        x.run(1);
+        Checks.dueBytes("30", Radio.packet(2, 1, 1, 1, 0, 4, 0, 30), Links.packet(x, false));
+        Checks.due("confirmed", 0, x.look(8));
+        x.tell(1, true);
+        Checks.due("again", 1, x.look(8));
+    }
+
+    private static void cutsToTheLimit() {
+        AttributeLink x = Links.with(0, 0, 1, 2, 3, 4, 5, 6, 7, 8, 9, 10, 11, 12, 13, 14, 15);
+        x.tell(1, false);
+        x.run(5);
+        Checks.dueBytes("limit 8", Links.bytes(1, 0, 1, 2, 3, 4, 5), Links.note(x, 0));
+        Links.agree(x, 12);
+        x.tell(1, true);
+        x.run(5);
+        Checks.dueBytes("limit 12", Links.bytes(1, 0, 1, 2, 3, 4, 5, 6, 7, 8, 9), Links.note(x, 0));
+        Links.agree(x, 20);
+        x.tell(1, false);
+        x.run(5);
+        Checks.due("limit 20", 17, x.note(0, -1));
+        x.put(1, true, 0, 0);
+        x.tell(1, false);
+        x.run(5);
+        Checks.dueBytes("an empty value", Links.bytes(1), Links.note(x, 0));
+    }
+
+    private static void rowsThatWait() {
+        AttributeLink x = Links.with(Links.BOTH, 1, 2, 3);
+        for (int k = 0; k < 4; k++) {
+            x.tell(1, false);
+        }
+        Checks.dueIllegalState("four wait", () -> x.tell(1, false));
+        Checks.dueIllegalState("four wait", () -> x.tell(1, true));
+        Checks.due("nothing was indicated", 0, x.look(8));
+        x.run(1);
+        Checks.dueIllegalState("the first one has a piece left", () -> x.tell(1, false));
+        x.run(1);
+        x.tell(1, false);
+        Checks.dueIllegalState("four again", () -> x.tell(1, false));
+        x.run(2);
+        x.begin(1, 1);
+        x.run(1);
+        Checks.dueIllegalState("the answer waits, too", () -> x.tell(1, false));
+        x.run(20);
+        Checks.due("the answer came behind them", 1, x.outcome());
+        Checks.dueBytes("the data", Links.bytes(1, 2, 3), Links.data(x));
+    }
+
+    private static void wrongInputs() {
+        AttributeLink x = Links.with(0, 1);
+        for (int handle : new int[] {-1, 0, 2, Integer.MIN_VALUE, Integer.MAX_VALUE}) {
+            Checks.dueIllegalArgument("handle " + handle, () -> x.tell(handle, true));
+        }
+        Checks.due("nothing was indicated", 0, x.look(8));
+        AttributeLink y = Links.broken();
+        Checks.dueIllegalState("the link is down", () -> y.tell(1, false));
+        Checks.dueIllegalState("the link is down", () -> y.tell(1, true));
+        Checks.dueIllegalArgument("the handle is looked at first", () -> y.tell(2, false));
+    }
+}
