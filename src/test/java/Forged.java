@@ -1,57 +1,70 @@
 /**
- * A link on which the client gets a row that the server never sent. The server tells values that leave tails of one to
- * three bytes, which are spoilt into the pieces of the row; the rows told go in front of the server's real answer.
+ * A link on which one side gets rows that the other one never sent. The sender has a tail of one byte in hand, which is
+ * never acknowledged to it, and each time it sends it again, it is spoilt into the next piece of the row.
  */
 final class Forged {
     static final int READ_ME = 1;
-    private static final int FIRST_TAIL = 2;
+    private static final int TOLD = 2;
     final AttributeLink x;
+    /** Whether the getter waits for the other turn than the one that the tail has. */
+    private boolean otherTurn;
 
     Forged() {
         x = Links.with(Links.BOTH, 9, 8, 7, 6, 5, 4, 3, 2, 1);
-        for (int tail = 1; tail <= 3; tail++) {
-            Links.add(x, 200 + tail, Links.READABLE, new int[1 + tail]);
-        }
+        Links.add(x, 200, Links.READABLE, 0, 0);
     }
 
-    /** Begins an operation and makes the client handle this message of at most 8 bytes in front of the answer. */
-    void getsInstead(Checks.Call begin, int... message) {
+    static int[] row(int... message) {
         int[] row = new int[4 + message.length];
         row[0] = message.length;
         row[2] = 4;
         System.arraycopy(message, 0, row, 4, message.length);
-        getsRow(begin, row);
+        return row;
     }
 
-    /** The same with a whole row of at most 12 bytes, its first four with it. */
-    void getsRow(Checks.Call begin, int... row) {
-        for (int from = 0; from < row.length; from += 3) {
-            x.tell(FIRST_TAIL - 1 + Math.min(3, row.length - from), false);
-        }
-        begin.make();
+    /** Makes the server's hand hold the tail, in front of all that it has to send. */
+    void holdServer() {
+        x.tell(TOLD, false);
         x.event(0, 0, 0);
-        for (int from = 0; from < row.length; from += 3) {
-            int[] piece = java.util.Arrays.copyOfRange(row, from, Math.min(from + 3, row.length));
-            if (from == 0) {
-                x.event(0, 0, Radio.spoil(Radio.OTHER_KIND, piece));
-            } else if (from % 6 == 3) {
-                putBehind(piece, from + 3 < row.length);
-            } else {
-                x.event(0, 0, Radio.spoil(0, piece));
-            }
+        x.event(Links.LOST_DOWN, 0, 0);
+        x.event(0, 0, Radio.spoil(Radio.FLIP_TURN, 0));
+        otherTurn = false;
+    }
+
+    /** The client gets these bytes, each in a piece of its own; what it has to send must be one piece at the most. */
+    void clientGets(int... row) {
+        for (int k = 0; k < row.length; k++) {
+            int kind = k == 0 ? Radio.OTHER_KIND : 0;
+            long up = otherTurn ? Radio.spoil(Radio.FLIP_NEXT) : 0;
+            x.event(0, up, Radio.spoil(kind ^ (otherTurn ? Radio.FLIP_TURN : 0), row[k]));
+            otherTurn = !otherTurn;
         }
     }
 
-    /**
-     * A told row's own first piece would begin the forged row anew. So it is lost, and the server is made to believe
-     * that it came; the tail then has a turn that the client does not wait for, which is spoilt, too. The event behind
-     * it gets the turns straight again, and the client passes over the first piece of the next told row in it.
-     */
-    private void putBehind(int[] piece, boolean more) {
-        x.event(Links.LOST_DOWN, 0, 0);
-        x.event(0, Radio.spoil(Radio.FLIP_NEXT), Radio.spoil(Radio.FLIP_TURN, piece));
-        if (more) {
-            x.event(0, Radio.spoil(Radio.FLIP_NEXT), 0);
+    /** Begins an operation, and the client gets this message in front of the server's answer. */
+    void getsInstead(Checks.Call begin, int... message) {
+        holdServer();
+        begin.make();
+        clientGets(row(message));
+    }
+
+    /** RAW, and the server gets this row in its place; it must have nothing to send in the meantime. */
+    void serverGets(int... row) {
+        x.raw(0, 4);
+        x.event(0, 0, 0);
+        for (int k = 0; k < row.length; k++) {
+            int kind = k == 0 ? Radio.OTHER_KIND : 0;
+            boolean other = k % 2 == 1;
+            boolean last = k == row.length - 1;
+            x.event(0, Radio.spoil(kind ^ (other ? Radio.FLIP_TURN : 0), row[k]),
+                    other || last ? 0 : Radio.spoil(Radio.FLIP_NEXT));
         }
+    }
+
+    /** The server's answer to this message. */
+    int[] answerTo(int... message) {
+        serverGets(row(message));
+        x.run(4);
+        return Links.data(x);
     }
 }

@@ -4,6 +4,7 @@ public final class OperationsTest {
         agreesOnALimit();
         readsAll();
         readsAllWithAnotherLimit();
+        readsAllKeepsSixteen();
         finds();
         wrongAnswers();
         writeAllTakesBack();
@@ -60,6 +61,11 @@ public final class OperationsTest {
         y.run(3);
         Checks.dueBytes("an answer of limit bytes asks for more", Links.bytes(3, 0, 4, 0, 12, 1, 7), Links.piece(y, false));
         Checks.due("which is nothing", 1, y.outcome());
+        AttributeLink z = Links.with(Links.READABLE, all);
+        Links.agree(z, 17);
+        z.begin(2, 1);
+        z.run(3);
+        Checks.due("sixteen are enough", 1, z.outcome());
     }
 
     private static void readsAllWithAnotherLimit() {
@@ -75,6 +81,20 @@ public final class OperationsTest {
         y.put(1, false, 0x0F10, 2);
         y.run(20);
         ends(y, 1, 0, 1, 2, 3, 4, 5, 6, 7, 8, 9, 10, 11, 12, 13, 14, 15, 16);
+    }
+
+    private static void readsAllKeepsSixteen() {
+        Forged forged = new Forged();
+        forged.getsInstead(() -> forged.x.begin(2, 1), 11, 1, 2, 3, 4, 5, 6, 7);
+        Checks.due("it goes on", 0, forged.x.outcome());
+        forged.clientGets(Forged.row(13, 8, 9, 10, 11, 12, 13, 14, 15, 16, 17, 18, 19, 20, 21));
+        ends(forged.x, 1, 0, 1, 2, 3, 4, 5, 6, 7, 8, 9, 10, 11, 12, 13, 14, 15, 16);
+        Forged first = new Forged();
+        first.getsInstead(() -> first.x.begin(2, 1), 11, 1, 2, 3, 4, 5, 6, 7, 8, 9, 10, 11, 12, 13, 14, 15, 16, 17, 18);
+        ends(first.x, 1, 0, 1, 2, 3, 4, 5, 6, 7, 8, 9, 10, 11, 12, 13, 14, 15, 16);
+        Forged read = new Forged();
+        read.getsInstead(() -> read.x.begin(1, 1), 11, 1, 2, 3, 4, 5, 6, 7, 8, 9, 10, 11, 12, 13, 14, 15, 16, 17, 18);
+        ends(read.x, 1, 0, 1, 2, 3, 4, 5, 6, 7, 8, 9, 10, 11, 12, 13, 14, 15, 16, 17, 18);
     }
 
     private static void finds() {
@@ -151,6 +171,9 @@ public final class OperationsTest {
         x.run(1);
         ends(x, 2, 14);
         Checks.dueBytes("nothing is written", Links.bytes(1), Links.value(x, 1));
+        x.begin(1, 1);
+        x.run(3);
+        ends(x, 1, 0, 1);
     }
 
     /** An echo that is too long or too short is no echo, and an error behind 24 0 is error 14 as well. */

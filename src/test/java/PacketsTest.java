@@ -3,6 +3,7 @@ public final class PacketsTest {
     public static void main(String[] args) {
         highBitsDoNotCount();
         lengthMustFit();
+        onlyEightBytesAreSpoilt();
         spoiltAcknowledgement();
         spoiltTurn();
         Checks.end();
@@ -27,6 +28,19 @@ public final class PacketsTest {
             }
             Checks.due("length " + length, 0, x.event(0, Links.number(difference), 0));
         }
+    }
+
+    /** Eight bytes whose differences take each other away in the check, so that the three behind them are right. */
+    private static void onlyEightBytesAreSpoilt() {
+        long spoil = Radio.silentSpoil(16);
+        AttributeLink x = Links.with(Links.BOTH, 1);
+        x.begin(1, 1);
+        Checks.due("the client's packet is good", 3, x.event(0, spoil, 0));
+        Checks.dueBytes("but of another row", Links.bytes(), Links.piece(x, true));
+        AttributeLink y = Links.with(Links.BOTH, 1);
+        y.tell(1, false);
+        Checks.due("the server's packet is good", 3, y.event(0, 0, spoil));
+        Checks.dueNoSuchElement("but of another row", () -> y.note(0, -1));
     }
 
     private static void spoiltAcknowledgement() {

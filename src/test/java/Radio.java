@@ -41,6 +41,17 @@ final class Radio {
         return all;
     }
 
+    /** Eight bytes, the first of them given, that leave the check of what begins with eight bytes as it is. */
+    static long silentSpoil(int headDifference) {
+        int[] body = {headDifference, 0, 0, 0, 0};
+        int[] all = withCheck(body, 0);
+        for (int k = body.length; k < all.length; k++) {
+            // The register's highest bit goes out first, but a byte's lowest bit comes first.
+            all[k] = Integer.reverse(all[k]) >>> 24;
+        }
+        return Links.number(all);
+    }
+
     static int[] whiten(int[] row, int channel) {
         int[] out = row.clone();
         int register = 64 + channel;

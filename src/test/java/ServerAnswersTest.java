@@ -10,6 +10,7 @@ public final class ServerAnswersTest {
         writes();
         keepsParts();
         writesParts();
+        writesPartsOfTheLastHandle();
         refusesParts();
         confirms();
         wrongSizes();
@@ -121,6 +122,17 @@ public final class ServerAnswersTest {
         Links.ask(x, 22, 2, 1, 2);
         answers(x, Links.bytes(24, 1), 25);
         Checks.dueBytes("one over the other", Links.bytes(1, 2, 1), Links.value(x, 2));
+    }
+
+    private static void writesPartsOfTheLastHandle() {
+        AttributeLink x = Links.fresh();
+        for (int k = 0; k < 10; k++) {
+            x.attribute(k, Links.BOTH, k, 1);
+        }
+        Links.ask(x, 22, 10, 1, 5);
+        answers(x, Links.bytes(24, 1), 25);
+        Checks.dueBytes("handle 10", Links.bytes(9, 5), Links.value(x, 10));
+        Checks.dueBytes("handle 9", Links.bytes(8), Links.value(x, 9));
     }
 
     private static void refusesParts() {

@@ -36,13 +36,20 @@ public final class WriteTest {
     private static void writesAll() {
         AttributeLink x = Links.with(Links.WRITABLE, 9, 9, 9, 9, 9, 9, 9, 9, 77, 78);
         x.write(1, 0x0102030405060708L, 8, true);
-        x.run(3);
-        Checks.due("a part of five", 1, x.look(6));
+        x.run(1);
+        Checks.dueBytes("a part of five", Links.bytes(8, 0, 4, 0, 22, 1, 0), Links.piece(x, false));
+        x.run(2);
+        Checks.due("it is kept", 1, x.look(6));
         Checks.due("nothing is written yet", 9, x.value(1, 0));
+        x.run(1);
+        Checks.dueBytes("a part of three", Links.bytes(6, 0, 4, 0, 22, 1, 5), Links.piece(x, false));
         x.run(20);
         Checks.due("done", 1, x.outcome());
         Checks.due("the parts are gone", 0, x.look(6));
         Checks.dueBytes("over the value", Links.bytes(1, 2, 3, 4, 5, 6, 7, 8, 77, 78), Links.value(x, 1));
+        x.write(1, 0x0102030405L, 5, true);
+        x.run(4);
+        Checks.dueBytes("five are one part", Links.bytes(2, 0, 4, 0, 24, 1), Links.piece(x, false));
         x.write(1, 0, 0, true);
         x.run(1);
         Checks.dueBytes("an empty part", Links.bytes(3, 0, 4, 0, 22, 1, 0), Links.piece(x, false));
