@@ -8,7 +8,7 @@ public final class AirTest {
         Checks.end();
     }
 
-    /** Worked out by hand from the document's words: channel 5, an empty packet. */
+    /** Lengths and first byte are those of the shared runs, so that Radio is not the only witness. */
     private static void knownBytes() {
         AttributeLink x = Links.fresh();
         x.attribute(40, 3, 4660, 2);

@@ -33,8 +33,21 @@ final class Forged {
 
     /** The client gets these bytes, each in a piece of its own; what it has to send must be one piece at the most. */
     void clientGets(int... row) {
+        clientGetsPieces(Radio.OTHER_KIND, row);
+    }
+
+    /** The same on a link that has done nothing yet, but all pieces are of kind 1: no row has begun. */
+    void newClientGetsUnbegun(int... row) {
+        x.tell(TOLD, false);
+        x.event(Links.LOST_DOWN, 0, 0);
+        x.event(0, Radio.spoil(Radio.FLIP_NEXT), 0);
+        otherTurn = true;
+        clientGetsPieces(0, row);
+    }
+
+    private void clientGetsPieces(int firstKind, int[] row) {
         for (int k = 0; k < row.length; k++) {
-            int kind = k == 0 ? Radio.OTHER_KIND : 0;
+            int kind = k == 0 ? firstKind : 0;
             long up = otherTurn ? Radio.spoil(Radio.FLIP_NEXT) : 0;
             x.event(0, up, Radio.spoil(kind ^ (otherTurn ? Radio.FLIP_TURN : 0), row[k]));
             otherTurn = !otherTurn;

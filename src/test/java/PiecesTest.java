@@ -8,6 +8,7 @@ public final class PiecesTest {
         rowsOfTheClient();
         tooLongRowIsDropped();
         emptyPieceIsNotTaken();
+        noRowHasBegun();
         eightRowsWait();
         Checks.end();
     }
@@ -138,6 +139,14 @@ public final class PiecesTest {
         x.event(Links.LOST_DOWN, 0, 0);
         x.event(0, Radio.spoil(Radio.FLIP_NEXT), Radio.spoil(Radio.FLIP_TURN, 0, 27, 77));
         Checks.dueBytes("it has begun nothing anew", Links.bytes(77), Links.note(x, 0));
+    }
+
+    private static void noRowHasBegun() {
+        Forged forged = new Forged();
+        forged.newClientGetsUnbegun(Forged.row(27, 77, 5));
+        Checks.due("they all came", 9, forged.x.look(1));
+        Checks.due("and were good", 0, forged.x.look(2));
+        Checks.dueNoSuchElement("but no row had begun", () -> forged.x.note(0, -1));
     }
 
     private static void eightRowsWait() {
