@@ -10,7 +10,7 @@ public final class AirTest {
 
     /** Lengths and first byte are those of the shared runs, so that Radio is not the only witness. */
     private static void knownBytes() {
-        AttributeLink x = Links.fresh();
+        Face x = Links.fresh();
         x.attribute(40, 3, 4660, 2);
         x.begin(1, 1);
         x.run(1);
@@ -22,19 +22,20 @@ public final class AirTest {
     }
 
     private static void everyChannel() {
-        AttributeLink x = Links.fresh();
         for (int k = 0; k < 37; k++) {
-            x.run(1);
+            Face x = Links.fresh();
+            x.run(k + 1);
             int flag = k % 2;
-            Checks.dueBytes("channel " + x.look(0), Radio.whiten(Radio.packet(1, flag, flag), x.look(0)),
+            int channel = (5 * (k + 1)) % 37;
+            Checks.dueBytes("channel " + channel, Radio.whiten(Radio.packet(1, flag, flag), channel),
                     Links.air(x, false));
-            Checks.dueBytes("channel " + x.look(0), Radio.whiten(Radio.packet(1, 1 - flag, flag), x.look(0)),
+            Checks.dueBytes("channel " + channel, Radio.whiten(Radio.packet(1, 1 - flag, flag), channel),
                     Links.air(x, true));
         }
     }
 
     private static void beforeItWasSpoilt() {
-        AttributeLink x = Links.fresh();
+        Face x = Links.fresh();
         x.event(0, -1, 0);
         Checks.dueBytes("spoilt", Radio.packet(1, 0, 0), Links.packet(x, false));
         Checks.dueNoSuchElement("the server had nothing to answer", () -> x.air(true, -1));
@@ -48,7 +49,7 @@ public final class AirTest {
     }
 
     private static void wrongInputs() {
-        AttributeLink x = Links.fresh();
+        Face x = Links.fresh();
         for (boolean server : new boolean[] {false, true}) {
             Checks.dueNoSuchElement("none", () -> x.air(server, 0));
             Checks.dueNoSuchElement("none", () -> x.air(server, 99));

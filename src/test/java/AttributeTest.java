@@ -9,7 +9,7 @@ public final class AttributeTest {
     }
 
     private static void handlesInOrder() {
-        AttributeLink x = Links.fresh();
+        Face x = Links.fresh();
         for (int k = 1; k <= 10; k++) {
             Checks.due("handle", k, x.attribute(0, 0, 0, 0));
         }
@@ -19,7 +19,7 @@ public final class AttributeTest {
     }
 
     private static void bytesOfTheValue() {
-        AttributeLink x = Links.fresh();
+        Face x = Links.fresh();
         x.attribute(0, 0, 0x1122334455667788L, 8);
         x.attribute(0, 0, 0x1122334455667788L, 3);
         x.attribute(0, 0, 0x1122334455667788L, 0);
@@ -31,7 +31,7 @@ public final class AttributeTest {
     }
 
     private static void wrongInputs() {
-        AttributeLink x = Links.fresh();
+        Face x = Links.fresh();
         for (int type : new int[] {-1, 256, Integer.MIN_VALUE, Integer.MAX_VALUE}) {
             Checks.dueIllegalArgument("type " + type, () -> x.attribute(type, 0, 0, 0));
         }
@@ -45,7 +45,7 @@ public final class AttributeTest {
     }
 
     private static void typesAndPermissions() {
-        AttributeLink x = Links.fresh();
+        Face x = Links.fresh();
         for (int permissions = 0; permissions <= 3; permissions++) {
             int handle = x.attribute(255 * (permissions & 1), permissions, 7, 1);
             boolean reads = (permissions & 1) != 0;

@@ -17,7 +17,7 @@ public final class BeginTest {
     }
 
     private static void request(int operation, int argument, int... due) {
-        AttributeLink x = Links.fresh();
+        Face x = Links.fresh();
         x.begin(operation, argument);
         Checks.due("it goes on", 0, x.outcome());
         x.run(1);
@@ -29,7 +29,7 @@ public final class BeginTest {
     }
 
     private static void wrongInputs() {
-        AttributeLink x = Links.fresh();
+        Face x = Links.fresh();
         for (int operation : new int[] {-1, 4, Integer.MIN_VALUE, Integer.MAX_VALUE}) {
             Checks.dueIllegalArgument("operation " + operation, () -> x.begin(operation, 0));
         }
@@ -40,7 +40,7 @@ public final class BeginTest {
     }
 
     private static void oneAtATime() {
-        AttributeLink x = Links.with(Links.BOTH, 1);
+        Face x = Links.with(Links.BOTH, 1);
         x.begin(1, 1);
         Checks.dueIllegalState("it goes on", () -> x.begin(1, 1));
         Checks.dueIllegalArgument("the argument is looked at first", () -> x.begin(1, 256));
@@ -58,10 +58,10 @@ public final class BeginTest {
         x.run(30);
         Checks.dueIllegalState("timed out", () -> x.begin(1, 1));
         Checks.due("timed out", 3, x.outcome());
-        AttributeLink y = Links.broken();
+        Face y = Links.broken();
         Checks.dueIllegalState("the link is down", () -> y.begin(1, 1));
         Checks.dueIllegalArgument("the operation is looked at first", () -> y.begin(4, 1));
-        AttributeLink z = Links.with(Links.BOTH, 1);
+        Face z = Links.with(Links.BOTH, 1);
         z.begin(1, 1);
         Links.breakDown(z);
         Checks.dueIllegalState("cut off", () -> z.begin(1, 1));

@@ -27,6 +27,20 @@ final class Checks {
         }
     }
 
+    /** Tells the first line that is another one. */
+    static void dueLines(String what, java.util.List<String> want, java.util.List<String> got) {
+        made++;
+        int k = 0;
+        while (k < want.size() && k < got.size() && want.get(k).equals(got.get(k))) {
+            k++;
+        }
+        if (k < want.size() || k < got.size()) {
+            wrong++;
+            System.out.println(what + ": line " + k + " is \"" + (k < got.size() ? got.get(k) : "")
+                    + "\", due is \"" + (k < want.size() ? want.get(k) : "") + "\"");
+        }
+    }
+
     static void dueTrue(String what, boolean holds) {
         due(what, 1, holds ? 1 : 0);
     }

@@ -1,7 +1,7 @@
 /** Promise 12: data. */
 public final class DataTest {
     public static void main(String[] args) {
-        AttributeLink x = Links.with(Links.BOTH, 1, 255, 3);
+        Face x = Links.with(Links.BOTH, 1, 255, 3);
         Checks.due("no operation", 0, x.data(-1));
         Checks.dueOutOfBounds("no operation", () -> x.data(0));
         x.begin(1, 1);

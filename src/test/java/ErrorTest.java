@@ -1,7 +1,7 @@
 /** Promise 11: error. */
 public final class ErrorTest {
     public static void main(String[] args) {
-        AttributeLink x = Links.with(Links.READABLE, 1);
+        Face x = Links.with(Links.READABLE, 1);
         x.attribute(2, Links.WRITABLE, 1, 1);
         Checks.due("no operation", 0, x.error());
         x.begin(1, 1);
@@ -24,7 +24,7 @@ public final class ErrorTest {
         Checks.end();
     }
 
-    private static void ends(AttributeLink x, int operation, int argument, int code) {
+    private static void ends(Face x, int operation, int argument, int code) {
         x.begin(operation, argument);
         x.run(5);
         Checks.due("operation " + operation, code, x.error());
@@ -32,7 +32,7 @@ public final class ErrorTest {
     }
 
     private static void readAllMeetsAShorterValue() {
-        AttributeLink x = Links.with(Links.READABLE, 1, 2, 3, 4, 5, 6, 7, 8, 9);
+        Face x = Links.with(Links.READABLE, 1, 2, 3, 4, 5, 6, 7, 8, 9);
         x.begin(2, 1);
         x.run(2);
         x.put(1, true, 5, 1);

@@ -12,7 +12,7 @@ public final class EventTest {
     }
 
     private static void answers() {
-        AttributeLink x = Links.fresh();
+        Face x = Links.fresh();
         Checks.due("both", 3, x.event(0, 0, 0));
         Checks.due("the server's is lost", 1, x.event(2, 0, 0));
         Checks.due("the client's is lost", 0, x.event(1, 0, 0));
@@ -21,7 +21,7 @@ public final class EventTest {
     }
 
     private static void spoils() {
-        AttributeLink x = Links.fresh();
+        Face x = Links.fresh();
         for (int bit = 0; bit < 64; bit++) {
             long spoil = 1L << bit;
             // An empty packet has five bytes: the three lowest of the number have nothing to be joined with.
@@ -31,14 +31,14 @@ public final class EventTest {
             Checks.due("down, bit " + bit, hits ? 1 : 3, x.event(0, 0, spoil));
             x.event(0, 0, 0);
         }
-        AttributeLink y = Links.with(Links.BOTH, 1);
+        Face y = Links.with(Links.BOTH, 1);
         y.begin(1, 1);
         Checks.due("the eighth byte", 0, y.event(0, 1, 0));
         Checks.due("eight bytes of eleven are all spoilt", 0, y.event(0, -1, 0));
     }
 
     private static void sendsAgain() {
-        AttributeLink x = Links.with(Links.BOTH, 1);
+        Face x = Links.with(Links.BOTH, 1);
         x.raw(Links.number(22, 1, 0), 3);
         x.event(Links.LOST_UP, 0, 0);
         Checks.due("the server has not got it", 0, x.look(6));
@@ -59,14 +59,14 @@ public final class EventTest {
     }
 
     private static void emptyOneInHand() {
-        AttributeLink x = Links.with(Links.BOTH, 1);
+        Face x = Links.with(Links.BOTH, 1);
         x.event(Links.LOST_UP, 0, 0);
         x.begin(1, 1);
         x.event(0, 0, 0);
         Checks.dueBytes("the empty one is sent first", Radio.packet(1, 0, 0), Links.packet(x, false));
         x.event(0, 0, 0);
         Checks.dueBytes("then the request", Radio.packet(2, 1, 1, 2, 0, 4, 0, 10, 1), Links.packet(x, false));
-        AttributeLink y = Links.with(Links.BOTH, 1);
+        Face y = Links.with(Links.BOTH, 1);
         y.event(Links.LOST_DOWN, 0, 0);
         y.tell(1, false);
         y.event(0, 0, 0);
@@ -76,7 +76,7 @@ public final class EventTest {
     }
 
     private static void goesDown() {
-        AttributeLink x = Links.with(Links.BOTH, 1);
+        Face x = Links.with(Links.BOTH, 1);
         for (int k = 1; k <= 5; k++) {
             x.event(Links.LOST_UP, 0, 0);
             Checks.due("the server's misses", k, x.look(3));
@@ -96,7 +96,7 @@ public final class EventTest {
     }
 
     private static void onlyOneSideMisses() {
-        AttributeLink x = Links.fresh();
+        Face x = Links.fresh();
         for (int k = 0; k < 6; k++) {
             Checks.due("it is still up", 0, x.look(7));
             Checks.due("the server gets them", 1, x.event(k % 2 == 0 ? Links.LOST_DOWN : 0, 0, k % 2 == 0 ? 0 : -1));
@@ -107,12 +107,12 @@ public final class EventTest {
     }
 
     private static void wrongInputs() {
-        AttributeLink x = Links.fresh();
+        Face x = Links.fresh();
         for (int faults : new int[] {-1, 4, Integer.MIN_VALUE, Integer.MAX_VALUE}) {
             Checks.dueIllegalArgument("faults " + faults, () -> x.event(faults, 0, 0));
         }
         Checks.due("there was none", 0, x.look(1));
-        AttributeLink y = Links.broken();
+        Face y = Links.broken();
         Checks.dueIllegalArgument("faults are looked at first", () -> y.event(4, 0, 0));
     }
 }

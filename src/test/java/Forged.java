@@ -5,12 +5,18 @@
 final class Forged {
     static final int READ_ME = 1;
     private static final int TOLD = 2;
-    final AttributeLink x;
+    final Face x;
     /** Whether the getter waits for the other turn than the one that the tail has. */
     private boolean otherTurn;
 
     Forged() {
-        x = Links.with(Links.BOTH, 9, 8, 7, 6, 5, 4, 3, 2, 1);
+        this(Links.fresh());
+    }
+
+    /** On a link that is new. */
+    Forged(Face link) {
+        x = link;
+        Links.add(x, 1, Links.BOTH, 9, 8, 7, 6, 5, 4, 3, 2, 1);
         Links.add(x, 200, Links.READABLE, 0, 0);
     }
 

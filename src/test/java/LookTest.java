@@ -1,7 +1,7 @@
 /** Promise 16: look. */
 public final class LookTest {
     public static void main(String[] args) {
-        AttributeLink x = Links.with(Links.BOTH, 1);
+        Face x = Links.with(Links.BOTH, 1);
         for (int what : new int[] {-1, 9, 10, Integer.MIN_VALUE, Integer.MAX_VALUE}) {
             Checks.due("another what", -1, x.look(what));
         }

@@ -4,16 +4,16 @@ public final class NewObjectTest {
         int[] numbers = {0, 1, -1, 37, 12, Integer.MAX_VALUE, Integer.MIN_VALUE};
         for (int hop : numbers) {
             for (int used : numbers) {
-                isNew(new AttributeLink(hop, used, hop ^ used));
+                isNew(new Program(hop, used, hop ^ used));
             }
         }
-        AttributeLink one = Links.with(Links.BOTH, 1);
+        Face one = Links.with(Links.BOTH, 1);
         isNew(Links.fresh());
         Checks.due("another object is left alone", 1, one.value(1, -1));
         Checks.end();
     }
 
-    private static void isNew(AttributeLink x) {
+    private static void isNew(Face x) {
         int[] due = {-1, 0, 0, 0, 8, 8, 0, 0, 0};
         for (int what = 0; what < due.length; what++) {
             Checks.due("look " + what + " of a new object", due[what], x.look(what));

@@ -8,7 +8,7 @@ public final class NoteTest {
     }
 
     private static void latestFour() {
-        AttributeLink x = Links.with(0, 10);
+        Face x = Links.with(0, 10);
         for (int k = 0; k < 6; k++) {
             x.put(1, true, 10 + k, 1);
             x.tell(1, k % 2 == 1);
@@ -22,7 +22,7 @@ public final class NoteTest {
     }
 
     private static void wrongInputs() {
-        AttributeLink x = Links.with(0, 5, 6);
+        Face x = Links.with(0, 5, 6);
         Checks.dueNoSuchElement("none", () -> x.note(0, 99));
         x.tell(1, false);
         x.run(3);

@@ -15,14 +15,14 @@ public final class OperationsTest {
         Checks.end();
     }
 
-    private static void ends(AttributeLink x, int outcome, int error, int... data) {
+    private static void ends(Face x, int outcome, int error, int... data) {
         Checks.due("outcome", outcome, x.outcome());
         Checks.due("error", error, x.error());
         Checks.dueBytes("data", data, Links.data(x));
     }
 
     private static void agreesOnALimit() {
-        AttributeLink x = Links.fresh();
+        Face x = Links.fresh();
         int[][] wantedAndDue = {{255, 20}, {0, 8}, {20, 20}, {7, 8}, {21, 20}, {8, 8}, {13, 13}, {9, 9}};
         for (int[] pair : wantedAndDue) {
             Links.agree(x, pair[0]);
@@ -46,7 +46,7 @@ public final class OperationsTest {
         for (int limit = 8; limit <= 20; limit++) {
             for (int n = 0; n <= 16; n++) {
                 int[] value = java.util.Arrays.copyOf(all, n);
-                AttributeLink x = Links.with(Links.READABLE, value);
+                Face x = Links.with(Links.READABLE, value);
                 Links.agree(x, limit);
                 x.begin(2, 1);
                 x.run(20);
@@ -56,12 +56,12 @@ public final class OperationsTest {
                 ends(x, 1, 0, java.util.Arrays.copyOf(all, Math.min(n, limit - 1)));
             }
         }
-        AttributeLink y = Links.with(Links.READABLE, 1, 2, 3, 4, 5, 6, 7);
+        Face y = Links.with(Links.READABLE, 1, 2, 3, 4, 5, 6, 7);
         y.begin(2, 1);
         y.run(3);
         Checks.dueBytes("an answer of limit bytes asks for more", Links.bytes(3, 0, 4, 0, 12, 1, 7), Links.piece(y, false));
         Checks.due("which is nothing", 1, y.outcome());
-        AttributeLink z = Links.with(Links.READABLE, all);
+        Face z = Links.with(Links.READABLE, all);
         Links.agree(z, 17);
         z.begin(2, 1);
         z.run(3);
@@ -69,13 +69,13 @@ public final class OperationsTest {
     }
 
     private static void readsAllWithAnotherLimit() {
-        AttributeLink x = Links.with(Links.READABLE, 1, 2, 3, 4, 5, 6, 7, 8, 9, 10);
+        Face x = Links.with(Links.READABLE, 1, 2, 3, 4, 5, 6, 7, 8, 9, 10);
         Links.ask(x, 2, 12);
         x.begin(2, 1);
         x.run(3);
         Checks.dueBytes("eleven bytes are not the client's eight", Links.bytes(), Links.piece(x, false));
         ends(x, 1, 0, 1, 2, 3, 4, 5, 6, 7, 8, 9, 10);
-        AttributeLink y = Links.with(Links.READABLE, 1, 2, 3, 4, 5, 6, 7, 8, 9, 10, 11, 12, 13, 14);
+        Face y = Links.with(Links.READABLE, 1, 2, 3, 4, 5, 6, 7, 8, 9, 10, 11, 12, 13, 14);
         y.begin(2, 1);
         y.run(2);
         y.put(1, false, 0x0F10, 2);
@@ -98,7 +98,7 @@ public final class OperationsTest {
     }
 
     private static void finds() {
-        AttributeLink x = Links.fresh();
+        Face x = Links.fresh();
         for (int k = 0; k < 9; k++) {
             x.attribute(k % 2, 0, 0, 0);
         }
@@ -111,7 +111,7 @@ public final class OperationsTest {
         x.begin(3, 2);
         x.run(20);
         ends(x, 1, 0);
-        AttributeLink y = Links.fresh();
+        Face y = Links.fresh();
         for (int k = 0; k < 10; k++) {
             y.attribute(7, 0, 0, 0);
         }
@@ -156,7 +156,7 @@ public final class OperationsTest {
     }
 
     private static void writeAllTakesBack() {
-        AttributeLink x = Links.with(Links.BOTH, 1);
+        Face x = Links.with(Links.BOTH, 1);
         x.write(1, Links.number(9, 8), 2, true);
         x.run(2);
         Checks.due("the part is kept", 1, x.look(6));
@@ -223,7 +223,7 @@ public final class OperationsTest {
 
     /** What the server tells goes between the answers of an operation and does not disturb it. */
     private static void manyRowsOfTheServer() {
-        AttributeLink x = Links.with(Links.READABLE, 1, 2, 3, 4, 5, 6, 7, 8, 9);
+        Face x = Links.with(Links.READABLE, 1, 2, 3, 4, 5, 6, 7, 8, 9);
         x.attribute(2, Links.BOTH, 77, 1);
         x.begin(2, 1);
         for (int k = 0; k < 12; k++) {

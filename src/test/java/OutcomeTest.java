@@ -14,7 +14,7 @@ public final class OutcomeTest {
     }
 
     private static void ends() {
-        AttributeLink x = Links.with(Links.BOTH, 1);
+        Face x = Links.with(Links.BOTH, 1);
         Checks.dueNoSuchElement("none", x::outcome);
         Checks.dueIllegalArgument("a wrong one", () -> x.begin(9, 9));
         Checks.dueNoSuchElement("none yet", x::outcome);
@@ -30,7 +30,7 @@ public final class OutcomeTest {
     }
 
     private static void timesOut() {
-        AttributeLink x = Links.with(Links.BOTH, 1);
+        Face x = Links.with(Links.BOTH, 1);
         x.run(3);
         x.raw(30, 1);
         x.run(29);
@@ -42,21 +42,21 @@ public final class OutcomeTest {
         Checks.due("it stays so when the link is down", 3, x.outcome());
     }
 
-    private static AttributeLink three() {
-        AttributeLink x = Links.with(Links.BOTH, 1, 2, 3);
+    private static Face three() {
+        Face x = Links.with(Links.BOTH, 1, 2, 3);
         Links.add(x, 1, Links.BOTH, 4);
         Links.add(x, 1, Links.BOTH, 1, 2, 3, 4, 5, 6, 7, 8, 9);
         return x;
     }
 
-    private static void tellFour(AttributeLink x) {
+    private static void tellFour(Face x) {
         for (int k = 0; k < 4; k++) {
             x.tell(TOLD, false);
         }
     }
 
     /** Four told rows of two pieces go in front of the answer, which comes in the last of 29 + more events. */
-    private static void bringAnswerSlowly(AttributeLink x, int more) {
+    private static void bringAnswerSlowly(Face x, int more) {
         x.run(4);
         for (int k = 0; k < 4; k++) {
             lose(x, 5);
@@ -67,7 +67,7 @@ public final class OutcomeTest {
         x.run(1);
     }
 
-    private static void lose(AttributeLink x, int n) {
+    private static void lose(Face x, int n) {
         for (int k = 0; k < n; k++) {
             x.event(Links.LOST_UP, 0, 0);
         }
@@ -75,7 +75,7 @@ public final class OutcomeTest {
 
     private static void waitsForThirtyEvents() {
         for (int more = 0; more <= 2; more++) {
-            AttributeLink x = three();
+            Face x = three();
             tellFour(x);
             x.begin(1, SHORT);
             bringAnswerSlowly(x, more);
@@ -86,7 +86,7 @@ public final class OutcomeTest {
 
     private static void countsFromTheLatestRequest() {
         for (int more = 0; more <= 1; more++) {
-            AttributeLink x = three();
+            Face x = three();
             x.begin(2, LONG);
             x.run(2);
             Checks.due("the first answer came in the second event", 7, x.data(-1));
@@ -99,19 +99,19 @@ public final class OutcomeTest {
     }
 
     private static void cutsOff() {
-        AttributeLink x = Links.with(Links.BOTH, 1);
+        Face x = Links.with(Links.BOTH, 1);
         x.begin(1, 1);
         lose(x, 5);
         Checks.due("not yet", 0, x.outcome());
         lose(x, 1);
         Checks.due("cut off", 4, x.outcome());
         Checks.due("no error", 0, x.error());
-        AttributeLink y = Links.with(Links.BOTH, 1);
+        Face y = Links.with(Links.BOTH, 1);
         y.raw(30, 1);
         y.run(24);
         Links.breakDown(y);
         Checks.due("this is looked at before the 30 events", 4, y.outcome());
-        AttributeLink z = Links.with(Links.BOTH, 1);
+        Face z = Links.with(Links.BOTH, 1);
         z.begin(1, 1);
         z.run(5);
         Links.breakDown(z);

@@ -10,7 +10,7 @@ public final class PacketsTest {
     }
 
     private static void highBitsDoNotCount() {
-        AttributeLink x = Links.fresh();
+        Face x = Links.fresh();
         for (int bit = 16; bit <= 128; bit *= 2) {
             Checks.due("good", 3, x.event(0, Radio.spoil(bit), Radio.spoil(bit)));
         }
@@ -18,7 +18,7 @@ public final class PacketsTest {
     }
 
     private static void lengthMustFit() {
-        AttributeLink x = Links.fresh();
+        Face x = Links.fresh();
         int[] empty = Radio.packet(1, 0, 0);
         for (int length : new int[] {1, 7, 8, 255}) {
             int[] other = Radio.checked(empty[0], length);
@@ -33,18 +33,18 @@ public final class PacketsTest {
     /** Eight bytes whose differences take each other away in the check, so that the three behind them are right. */
     private static void onlyEightBytesAreSpoilt() {
         long spoil = Radio.silentSpoil(16);
-        AttributeLink x = Links.with(Links.BOTH, 1);
+        Face x = Links.with(Links.BOTH, 1);
         x.begin(1, 1);
         Checks.due("the client's packet is good", 3, x.event(0, spoil, 0));
         Checks.dueBytes("but of another row", Links.bytes(), Links.piece(x, true));
-        AttributeLink y = Links.with(Links.BOTH, 1);
+        Face y = Links.with(Links.BOTH, 1);
         y.tell(1, false);
         Checks.due("the server's packet is good", 3, y.event(0, 0, spoil));
         Checks.dueNoSuchElement("but of another row", () -> y.note(0, -1));
     }
 
     private static void spoiltAcknowledgement() {
-        AttributeLink x = Links.with(Links.BOTH, 1);
+        Face x = Links.with(Links.BOTH, 1);
         x.run(1);
         x.tell(1, false);
         x.event(Links.LOST_DOWN, 0, 0);
@@ -56,7 +56,7 @@ public final class PacketsTest {
     }
 
     private static void spoiltTurn() {
-        AttributeLink x = Links.with(Links.BOTH, 1, 2, 3, 4);
+        Face x = Links.with(Links.BOTH, 1, 2, 3, 4);
         x.raw(Links.number(18, 1, 9, 8), 4);
         x.run(1);
         Checks.due("good, but there already", 3, x.event(0, Radio.spoil(Radio.FLIP_TURN, 0), 0));

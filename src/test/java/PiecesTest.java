@@ -14,7 +14,7 @@ public final class PiecesTest {
     }
 
     private static void ofSevenBytes() {
-        AttributeLink x = Links.with(Links.READABLE, 0, 1, 2, 3, 4, 5, 6, 7, 8, 9, 10, 11, 12, 13, 14, 15);
+        Face x = Links.with(Links.READABLE, 0, 1, 2, 3, 4, 5, 6, 7, 8, 9, 10, 11, 12, 13, 14, 15);
         Links.agree(x, 20);
         x.begin(1, 1);
         x.run(1);
@@ -33,7 +33,7 @@ public final class PiecesTest {
 
     private static void otherKinds() {
         for (int kind : new int[] {0, 3}) {
-            AttributeLink x = Links.with(Links.BOTH, 1);
+            Face x = Links.with(Links.BOTH, 1);
             x.raw(Links.number(18, 1, 9, 8), 4);
             x.run(1);
             x.event(0, Radio.spoil(1 ^ kind, 0), 0);
@@ -46,7 +46,7 @@ public final class PiecesTest {
     }
 
     private static void beginsAnew() {
-        AttributeLink x = Links.with(Links.BOTH, 1);
+        Face x = Links.with(Links.BOTH, 1);
         x.raw(Links.number(18, 1, 9, 8), 4);
         x.run(1);
         x.event(0, Radio.spoil(Radio.OTHER_KIND, 0), 0);
@@ -114,7 +114,7 @@ public final class PiecesTest {
 
     /** A row of five bytes in all gets six of them. */
     private static void tooLongRowIsDropped() {
-        AttributeLink x = Links.with(Links.BOTH, 1);
+        Face x = Links.with(Links.BOTH, 1);
         Links.add(x, 1, Links.READABLE, 0, 0, 0, 0);
         x.tell(2, false);
         x.tell(2, false);
@@ -129,7 +129,7 @@ public final class PiecesTest {
     }
 
     private static void emptyPieceIsNotTaken() {
-        AttributeLink x = Links.with(Links.BOTH, 1);
+        Face x = Links.with(Links.BOTH, 1);
         Links.add(x, 1, Links.READABLE, 0, 0, 0, 0);
         x.tell(2, false);
         x.run(1);

@@ -8,7 +8,7 @@ public final class PutTest {
     }
 
     private static void behindAndInPlace() {
-        AttributeLink x = Links.with(0, 1, 2, 3);
+        Face x = Links.with(0, 1, 2, 3);
         Checks.due("behind", 5, x.put(1, false, 0x99040506L, 2));
         Checks.dueBytes("behind", Links.bytes(1, 2, 3, 5, 6), Links.value(x, 1));
         Checks.due("nothing behind", 5, x.put(1, false, 7, 0));
@@ -21,7 +21,7 @@ public final class PutTest {
     }
 
     private static void upToSixteen() {
-        AttributeLink x = Links.with(0, 1, 2, 3, 4, 5, 6, 7, 8);
+        Face x = Links.with(0, 1, 2, 3, 4, 5, 6, 7, 8);
         x.attribute(0, 0, 5, 1);
         Checks.due("fifteen", 15, x.put(1, false, 0, 7));
         Checks.dueIllegalState("seventeen", () -> x.put(1, false, 0, 2));
@@ -35,7 +35,7 @@ public final class PutTest {
     }
 
     private static void wrongInputs() {
-        AttributeLink x = Links.with(0, 1);
+        Face x = Links.with(0, 1);
         for (int handle : new int[] {-1, 0, 2, 11, Integer.MIN_VALUE, Integer.MAX_VALUE}) {
             Checks.dueIllegalArgument("handle " + handle, () -> x.put(handle, true, 0, 0));
         }
@@ -43,7 +43,7 @@ public final class PutTest {
             Checks.dueIllegalArgument("n " + n, () -> x.put(1, true, 0, n));
         }
         Checks.dueBytes("nothing was put", Links.bytes(1), Links.value(x, 1));
-        AttributeLink y = Links.broken();
+        Face y = Links.broken();
         Checks.due("the host may put when the link is down", 2, y.put(1, false, 1, 1));
     }
 }

@@ -22,16 +22,10 @@ final class Radio {
     }
 
     private static int[] withCheck(int[] body, int start) {
-        String bits = "";
-        for (int b : body) {
-            for (int i = 0; i < 8; i++) {
-                bits += (b >> i) & 1;
-            }
-        }
         int register = start;
-        for (char bit : bits.toCharArray()) {
+        for (int bit = 0; bit < 8 * body.length; bit++) {
             int twice = register * 2;
-            boolean differs = (twice >= (1 << 24)) != (bit == '1');
+            boolean differs = (twice >= (1 << 24)) != ((body[bit / 8] >> (bit % 8)) % 2 == 1);
             register = (twice % (1 << 24)) ^ (differs ? 0x65B : 0);
         }
         int[] all = java.util.Arrays.copyOf(body, body.length + 3);
@@ -41,9 +35,9 @@ final class Radio {
         return all;
     }
 
-    /** Eight bytes, the first of them given, that leave the check of what begins with eight bytes as it is. */
-    static long silentSpoil(int headDifference) {
-        int[] body = {headDifference, 0, 0, 0, 0};
+    /** Eight bytes, the first ones given, that leave the check of what begins with eight bytes as it is. */
+    static long silentSpoil(int... firstDifferences) {
+        int[] body = java.util.Arrays.copyOf(firstDifferences, 5);
         int[] all = withCheck(body, 0);
         for (int k = body.length; k < all.length; k++) {
             // The register's highest bit goes out first, but a byte's lowest bit comes first.

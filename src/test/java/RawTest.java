@@ -8,7 +8,7 @@ public final class RawTest {
     }
 
     private static void sendsAsItIs() {
-        AttributeLink x = Links.with(Links.BOTH, 1);
+        Face x = Links.with(Links.BOTH, 1);
         x.raw(0x99120102L, 3);
         Checks.due("it goes on", 0, x.outcome());
         x.run(1);
@@ -21,7 +21,7 @@ public final class RawTest {
     }
 
     private static void takesAnyAnswer() {
-        AttributeLink x = Links.with(0, 1);
+        Face x = Links.with(0, 1);
         Checks.dueBytes("an error is data", Links.bytes(1, 10, 1, 2), Links.ask(x, 10, 1));
         Checks.due("done", 1, x.outcome());
         Checks.due("no error", 0, x.error());
@@ -35,7 +35,7 @@ public final class RawTest {
     }
 
     private static void wrongInputs() {
-        AttributeLink x = Links.with(Links.BOTH, 1);
+        Face x = Links.with(Links.BOTH, 1);
         for (int n : new int[] {-1, 0, 9, Integer.MIN_VALUE, Integer.MAX_VALUE}) {
             Checks.dueIllegalArgument("n " + n, () -> x.raw(1, n));
         }
@@ -45,7 +45,7 @@ public final class RawTest {
         Checks.dueIllegalArgument("n is looked at first", () -> x.raw(30, 0));
         x.run(30);
         Checks.dueIllegalState("timed out", () -> x.raw(30, 1));
-        AttributeLink y = Links.broken();
+        Face y = Links.broken();
         Checks.dueIllegalState("the link is down", () -> y.raw(30, 1));
         Checks.dueIllegalArgument("n is looked at first", () -> y.raw(30, 9));
     }

@@ -3,7 +3,6 @@ import java.lang.management.ManagementFactory;
 
 /** The calls of a run live in one room: what a link needs is made in its constructor and used again. */
 public final class RoomTest {
-    private static final int CALLS = 512;
     /** What the machine itself may make while it measures. */
     private static final long SPARE = 20_000;
 
@@ -16,9 +15,9 @@ public final class RoomTest {
 
     private static long measure() {
         ThreadMXBean thread = (ThreadMXBean) ManagementFactory.getThreadMXBean();
-        AttributeLink x = Links.with(Links.BOTH, 1, 2, 3, 4, 5, 6, 7, 8, 9, 10, 11, 12, 13, 14, 15, 16);
+        Face x = Links.with(Links.BOTH, 1, 2, 3, 4, 5, 6, 7, 8, 9, 10, 11, 12, 13, 14, 15, 16);
         long before = thread.getThreadAllocatedBytes(Thread.currentThread().getId());
-        for (int k = 0; k < CALLS / 4; k++) {
+        for (int k = 0; k < Program.MOST_CALLS / 4 - 1; k++) {
             x.tell(1, true);
             x.begin(2, 1);
             x.run(40);

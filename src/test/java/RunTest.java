@@ -1,7 +1,7 @@
 /** Promise 9: run. */
 public final class RunTest {
     public static void main(String[] args) {
-        AttributeLink x = Links.fresh();
+        Face x = Links.fresh();
         Checks.due("one", 1, x.run(1));
         Checks.due("one event", 1, x.look(1));
         Checks.due("forty", 40, x.run(40));
@@ -14,7 +14,7 @@ public final class RunTest {
         x.run(1);
         Checks.due("without faults", 0, x.look(2) + x.look(3));
         sameAsEvents();
-        AttributeLink y = Links.broken();
+        Face y = Links.broken();
         Checks.due("down", 0, y.run(40));
         Checks.due("no event", 6, y.look(1));
         Checks.dueIllegalArgument("n is looked at when it is down, too", () -> y.run(41));
@@ -22,8 +22,8 @@ public final class RunTest {
     }
 
     private static void sameAsEvents() {
-        AttributeLink once = Links.with(Links.BOTH, 1, 2, 3, 4, 5, 6, 7, 8, 9, 10);
-        AttributeLink often = Links.with(Links.BOTH, 1, 2, 3, 4, 5, 6, 7, 8, 9, 10);
+        Face once = Links.with(Links.BOTH, 1, 2, 3, 4, 5, 6, 7, 8, 9, 10);
+        Face often = Links.with(Links.BOTH, 1, 2, 3, 4, 5, 6, 7, 8, 9, 10);
         once.begin(2, 1);
         often.begin(2, 1);
         once.run(7);

@@ -18,12 +18,12 @@ public final class ServerAnswersTest {
         Checks.end();
     }
 
-    private static void answers(AttributeLink x, int[] message, int... due) {
+    private static void answers(Face x, int[] message, int... due) {
         Checks.dueBytes("the answer to " + java.util.Arrays.toString(message), due, Links.ask(x, message));
     }
 
     private static void limits() {
-        AttributeLink x = Links.fresh();
+        Face x = Links.fresh();
         int[][] wantedAndDue = {{0, 8}, {7, 8}, {8, 8}, {9, 9}, {19, 19}, {20, 20}, {21, 20}, {255, 20}};
         for (int[] pair : wantedAndDue) {
             answers(x, Links.bytes(2, pair[0]), 3, 20);
@@ -32,7 +32,7 @@ public final class ServerAnswersTest {
     }
 
     private static void reads() {
-        AttributeLink x = Links.with(Links.READABLE, SIXTEEN);
+        Face x = Links.with(Links.READABLE, SIXTEEN);
         x.attribute(1, Links.WRITABLE, 0, 1);
         x.attribute(1, Links.READABLE, 0, 0);
         answers(x, Links.bytes(10, 1), 11, 0, 1, 2, 3, 4, 5, 6);
@@ -48,7 +48,7 @@ public final class ServerAnswersTest {
     }
 
     private static void readsFromAPlace() {
-        AttributeLink x = Links.with(Links.READABLE, SIXTEEN);
+        Face x = Links.with(Links.READABLE, SIXTEEN);
         x.attribute(1, Links.WRITABLE, 0, 1);
         answers(x, Links.bytes(12, 1, 0), 13, 0, 1, 2, 3, 4, 5, 6);
         answers(x, Links.bytes(12, 1, 7), 13, 7, 8, 9, 10, 11, 12, 13);
@@ -61,7 +61,7 @@ public final class ServerAnswersTest {
     }
 
     private static void finds() {
-        AttributeLink x = Links.fresh();
+        Face x = Links.fresh();
         for (int k = 0; k < 10; k++) {
             x.attribute(k % 3, 0, 0, 0);
         }
@@ -76,7 +76,7 @@ public final class ServerAnswersTest {
     }
 
     private static void writes() {
-        AttributeLink x = Links.with(Links.WRITABLE, SIXTEEN);
+        Face x = Links.with(Links.WRITABLE, SIXTEEN);
         x.attribute(1, Links.READABLE, 5, 1);
         answers(x, Links.bytes(18, 1, 7, 8), 19);
         Checks.dueBytes("the value becomes v", Links.bytes(7, 8), Links.value(x, 1));
@@ -88,7 +88,7 @@ public final class ServerAnswersTest {
     }
 
     private static void keepsParts() {
-        AttributeLink x = Links.with(Links.WRITABLE, 1);
+        Face x = Links.with(Links.WRITABLE, 1);
         x.attribute(1, Links.READABLE, 5, 1);
         answers(x, Links.bytes(22, 3, 0), 1, 22, 3, 1);
         answers(x, Links.bytes(22, 2, 0), 1, 22, 2, 3);
@@ -108,7 +108,7 @@ public final class ServerAnswersTest {
     }
 
     private static void writesParts() {
-        AttributeLink x = Links.with(Links.WRITABLE, 1, 2, 3, 4);
+        Face x = Links.with(Links.WRITABLE, 1, 2, 3, 4);
         x.attribute(1, Links.BOTH, 0, 0);
         Links.ask(x, 22, 1, 1, 77, 78);
         Links.ask(x, 22, 2, 0, 5, 6, 7);
@@ -125,7 +125,7 @@ public final class ServerAnswersTest {
     }
 
     private static void writesPartsOfTheLastHandle() {
-        AttributeLink x = Links.fresh();
+        Face x = Links.fresh();
         for (int k = 0; k < 10; k++) {
             x.attribute(k, Links.BOTH, k, 1);
         }
@@ -136,7 +136,7 @@ public final class ServerAnswersTest {
     }
 
     private static void refusesParts() {
-        AttributeLink x = Links.with(Links.BOTH, 1, 2, 3, 4, 5, 6, 7, 8, 9, 10, 11, 12, 13, 14);
+        Face x = Links.with(Links.BOTH, 1, 2, 3, 4, 5, 6, 7, 8, 9, 10, 11, 12, 13, 14);
         x.attribute(1, Links.BOTH, 3, 1);
         Links.ask(x, 22, 2, 0, 77);
         Links.ask(x, 22, 1, 15);
@@ -166,7 +166,7 @@ public final class ServerAnswersTest {
     }
 
     private static void confirms() {
-        AttributeLink x = Links.with(Links.BOTH, 1, 2, 3);
+        Face x = Links.with(Links.BOTH, 1, 2, 3);
         for (int k = 0; k < 3; k++) {
             x.tell(1, false);
         }
@@ -177,7 +177,7 @@ public final class ServerAnswersTest {
         x.run(29);
         Checks.due("and is not answered", 3, x.outcome());
         Checks.due("the client confirmed it", 0, x.look(8));
-        AttributeLink y = Links.with(Links.BOTH, 1, 2, 3);
+        Face y = Links.with(Links.BOTH, 1, 2, 3);
         y.tell(1, true);
         y.raw(30, 1);
         y.run(1);
@@ -187,7 +187,7 @@ public final class ServerAnswersTest {
     }
 
     private static void wrongSizes() {
-        AttributeLink x = Links.with(Links.BOTH, 1);
+        Face x = Links.with(Links.BOTH, 1);
         int[][] wrong = {{2}, {2, 8, 8}, {10}, {10, 1, 0}, {12}, {12, 1}, {12, 1, 0, 0}, {16}, {16, 1}, {16, 1, 1, 1},
             {18}, {22}, {22, 1}, {24}, {24, 2}, {24, 255}, {24, 1, 1}, {24, 0, 0}};
         for (int[] message : wrong) {
@@ -203,7 +203,7 @@ public final class ServerAnswersTest {
     }
 
     private static void orderOfErrors() {
-        AttributeLink x = Links.with(0, 1);
+        Face x = Links.with(0, 1);
         answers(x, Links.bytes(12, 9, 99), 1, 12, 9, 1);
         answers(x, Links.bytes(12, 1, 99), 1, 12, 1, 2);
         answers(x, Links.bytes(12, 9), 1, 12, 0, 4);

@@ -10,7 +10,7 @@ public final class TellTest {
     }
 
     private static void tells() {
-        AttributeLink x = Links.with(0, 1, 2, 3);
+        Face x = Links.with(0, 1, 2, 3);
         x.tell(1, false);
         x.put(1, true, 9, 1);
         Checks.due("nothing is indicated", 0, x.look(8));
@@ -24,7 +24,7 @@ public final class TellTest {
     }
 
     private static void indicates() {
-        AttributeLink x = Links.with(0, 4);
+        Face x = Links.with(0, 4);
         x.tell(1, true);
         Checks.due("at once", 1, x.look(8));
         Checks.dueIllegalState("a second one", () -> x.tell(1, true));
@@ -41,7 +41,7 @@ public final class TellTest {
     }
 
     private static void cutsToTheLimit() {
-        AttributeLink x = Links.with(0, 0, 1, 2, 3, 4, 5, 6, 7, 8, 9, 10, 11, 12, 13, 14, 15);
+        Face x = Links.with(0, 0, 1, 2, 3, 4, 5, 6, 7, 8, 9, 10, 11, 12, 13, 14, 15);
         x.tell(1, false);
         x.run(5);
         Checks.dueBytes("limit 8", Links.bytes(1, 0, 1, 2, 3, 4, 5), Links.note(x, 0));
@@ -60,7 +60,7 @@ public final class TellTest {
     }
 
     private static void rowsThatWait() {
-        AttributeLink x = Links.with(Links.BOTH, 1, 2, 3);
+        Face x = Links.with(Links.BOTH, 1, 2, 3);
         for (int k = 0; k < 4; k++) {
             x.tell(1, false);
         }
@@ -82,12 +82,12 @@ public final class TellTest {
     }
 
     private static void wrongInputs() {
-        AttributeLink x = Links.with(0, 1);
+        Face x = Links.with(0, 1);
         for (int handle : new int[] {-1, 0, 2, Integer.MIN_VALUE, Integer.MAX_VALUE}) {
             Checks.dueIllegalArgument("handle " + handle, () -> x.tell(handle, true));
         }
         Checks.due("nothing was indicated", 0, x.look(8));
-        AttributeLink y = Links.broken();
+        Face y = Links.broken();
         Checks.dueIllegalState("the link is down", () -> y.tell(1, false));
         Checks.dueIllegalState("the link is down", () -> y.tell(1, true));
         Checks.dueIllegalArgument("the handle is looked at first", () -> y.tell(2, false));

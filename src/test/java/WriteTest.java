@@ -9,7 +9,7 @@ public final class WriteTest {
     }
 
     private static void writes() {
-        AttributeLink x = Links.with(Links.BOTH, 1, 2, 3);
+        Face x = Links.with(Links.BOTH, 1, 2, 3);
         x.write(1, 0x99AABBCCDDEEL, 6, false);
         Checks.due("it goes on", 0, x.outcome());
         x.run(1);
@@ -34,7 +34,7 @@ public final class WriteTest {
     }
 
     private static void writesAll() {
-        AttributeLink x = Links.with(Links.WRITABLE, 9, 9, 9, 9, 9, 9, 9, 9, 77, 78);
+        Face x = Links.with(Links.WRITABLE, 9, 9, 9, 9, 9, 9, 9, 9, 77, 78);
         x.write(1, 0x0102030405060708L, 8, true);
         x.run(1);
         Checks.dueBytes("a part of five", Links.bytes(8, 0, 4, 0, 22, 1, 0), Links.piece(x, false));
@@ -64,7 +64,7 @@ public final class WriteTest {
     }
 
     private static void writesAllWithErrors() {
-        AttributeLink x = Links.with(Links.READABLE, 1);
+        Face x = Links.with(Links.READABLE, 1);
         x.attribute(1, 3, 0, 0);
         x.write(1, 1, 1, true);
         x.run(5);
@@ -85,7 +85,7 @@ public final class WriteTest {
     }
 
     private static void wrongInputs() {
-        AttributeLink x = Links.with(Links.BOTH, 1);
+        Face x = Links.with(Links.BOTH, 1);
         for (boolean all : new boolean[] {false, true}) {
             for (int handle : new int[] {-1, 256, Integer.MIN_VALUE, Integer.MAX_VALUE}) {
                 Checks.dueIllegalArgument("handle " + handle, () -> x.write(handle, 0, 0, all));
@@ -107,7 +107,7 @@ public final class WriteTest {
         x.raw(30, 1);
         x.run(30);
         Checks.dueIllegalState("timed out", () -> x.write(1, 0, 1, false));
-        AttributeLink y = Links.broken();
+        Face y = Links.broken();
         Checks.dueIllegalState("the link is down", () -> y.write(1, 0, 1, false));
         Checks.dueIllegalState("the link is down", () -> y.write(1, 0, 8, true));
         Checks.dueIllegalArgument("the handle is looked at first", () -> y.write(256, 0, 1, true));
