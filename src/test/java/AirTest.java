@@ -3,6 +3,7 @@ public final class AirTest {
     public static void main(String[] args) {
         knownBytes();
         everyChannel();
+        everyLength();
         beforeItWasSpoilt();
         wrongInputs();
         Checks.end();
@@ -31,6 +32,23 @@ public final class AirTest {
                     Links.air(x, false));
             Checks.dueBytes("channel " + channel, Radio.whiten(Radio.packet(1, 1 - flag, flag), channel),
                     Links.air(x, true));
+        }
+    }
+
+    /** A packet has five bytes and those of its piece. */
+    private static void everyLength() {
+        for (int n = 1; n <= 8; n++) {
+            Face x = Links.fresh();
+            x.raw(0, n);
+            int piece = 4 + n;
+            for (int k = 0; k < 3; k++) {
+                x.run(1);
+                int due = 5 + Math.min(7, piece);
+                Checks.due(n + " bytes, packet " + k, due, x.air(false, -1));
+                Checks.dueTrue("its last byte", x.air(false, due - 1) >= 0);
+                Checks.dueOutOfBounds("behind it", () -> x.air(false, due));
+                piece = Math.max(0, piece - 7);
+            }
         }
     }
 

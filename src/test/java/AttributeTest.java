@@ -3,6 +3,8 @@ public final class AttributeTest {
     public static void main(String[] args) {
         handlesInOrder();
         bytesOfTheValue();
+        everyNumberOfBytes();
+        edgesOfTypeAndPermissions();
         wrongInputs();
         typesAndPermissions();
         Checks.end();
@@ -28,6 +30,27 @@ public final class AttributeTest {
         Checks.dueBytes("the lowest three", Links.bytes(0x66, 0x77, 0x88), Links.value(x, 2));
         Checks.dueBytes("none", Links.bytes(), Links.value(x, 3));
         Checks.dueBytes("a negative number", Links.bytes(0xFF, 0xFE), Links.value(x, 4));
+    }
+
+    private static void everyNumberOfBytes() {
+        int[] all = {0x91, 0x92, 0x93, 0x94, 0x95, 0x96, 0x97, 0x98};
+        for (int n = 0; n <= 8; n++) {
+            Face x = Links.fresh();
+            x.attribute(0, 0, Links.number(all), n);
+            Checks.dueBytes("the lowest " + n, java.util.Arrays.copyOfRange(all, 8 - n, 8), Links.value(x, 1));
+        }
+    }
+
+    private static void edgesOfTypeAndPermissions() {
+        for (int type : new int[] {0, 1, 254, 255}) {
+            Face x = Links.fresh();
+            Checks.due("type " + type, 1, x.attribute(type, 0, 0, 0));
+            Checks.dueBytes("found by it", Links.bytes(17, 1), Links.ask(x, 16, 1, type));
+            Checks.dueBytes("not by another", Links.bytes(1, 16, 1, 10), Links.ask(x, 16, 1, 255 - type));
+        }
+        for (int permissions = 0; permissions <= 3; permissions++) {
+            Checks.due("permissions " + permissions, 1, Links.fresh().attribute(0, permissions, 0, 0));
+        }
     }
 
     private static void wrongInputs() {

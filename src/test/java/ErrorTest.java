@@ -1,13 +1,16 @@
 /** Promise 11: error. */
 public final class ErrorTest {
     public static void main(String[] args) {
+        codes();
+        zeroWhenItDidNot();
+        readAllMeetsAShorterValue();
+        anyCodeOfTheAnswer();
+        Checks.end();
+    }
+
+    private static void codes() {
         Face x = Links.with(Links.READABLE, 1);
         x.attribute(2, Links.WRITABLE, 1, 1);
-        Checks.due("no operation", 0, x.error());
-        x.begin(1, 1);
-        Checks.due("it goes on", 0, x.error());
-        x.run(5);
-        Checks.due("done", 0, x.error());
         ends(x, 1, 3, 1);
         ends(x, 2, 2, 2);
         x.write(1, 0, 0, false);
@@ -19,9 +22,35 @@ public final class ErrorTest {
         Checks.due("the next operation", 0, x.error());
         x.run(5);
         ends(x, 3, 77, 0);
-        readAllMeetsAShorterValue();
-        anyCodeOfTheAnswer();
-        Checks.end();
+    }
+
+    private static void zeroWhenItDidNot() {
+        Face x = Links.with(Links.READABLE, 1);
+        Checks.due("no operation", 0, x.error());
+        x.begin(1, 1);
+        Checks.due("it goes on", 0, x.error());
+        x.run(5);
+        Checks.due("done", 0, x.error());
+        x.begin(1, 2);
+        x.run(5);
+        Checks.due("an error", 1, x.error());
+        x.raw(30, 1);
+        Checks.due("it goes on", 0, x.error());
+        x.run(30);
+        Checks.due("timed out", 3, x.outcome());
+        Checks.due("timed out", 0, x.error());
+        Face y = Links.with(Links.READABLE, 1);
+        y.begin(1, 2);
+        y.run(5);
+        y.begin(1, 2);
+        Links.breakDown(y);
+        Checks.due("cut off", 4, y.outcome());
+        Checks.due("cut off", 0, y.error());
+        Face z = Links.with(Links.READABLE, 1);
+        z.begin(1, 2);
+        z.run(5);
+        Links.breakDown(z);
+        Checks.due("it stays when the link goes down", 1, z.error());
     }
 
     private static void ends(Face x, int operation, int argument, int code) {
@@ -42,7 +71,7 @@ public final class ErrorTest {
     }
 
     private static void anyCodeOfTheAnswer() {
-        for (int code : new int[] {0, 10, 14, 255}) {
+        for (int code : new int[] {0, 1, 9, 10, 11, 14, 255}) {
             Forged forged = new Forged();
             forged.getsInstead(() -> forged.x.begin(1, Forged.READ_ME), 1, 9, 9, code);
             Checks.due("an error", 2, forged.x.outcome());

@@ -7,6 +7,9 @@ public final class EventTest {
         emptyOneInHand();
         goesDown();
         onlyOneSideMisses();
+        fiveMissesAreForgotten();
+        downFromTheEndOfTheSixth();
+        hostGoesOnWhenItIsDown();
         wrongInputs();
         Checks.end();
     }
@@ -104,6 +107,53 @@ public final class EventTest {
         Checks.due("the client's misses", 6, x.look(2));
         Checks.due("the server's misses", 0, x.look(3));
         Checks.due("down", 1, x.look(7));
+    }
+
+    private static void fiveMissesAreForgotten() {
+        Face x = Links.fresh();
+        for (int round = 0; round < 3; round++) {
+            for (int k = 1; k <= 5; k++) {
+                x.event(Links.LOST_DOWN, 0, 0);
+                Checks.due("the client's misses", k, x.look(2));
+                Checks.due("the server's misses", 0, x.look(3));
+            }
+            Checks.due("one that is good", 3, x.event(0, 0, 0));
+            Checks.due("none any more", 0, x.look(2));
+        }
+        Face y = Links.fresh();
+        for (int k = 0; k < 5; k++) {
+            y.event(Links.LOST_UP, 0, 0);
+        }
+        Checks.due("the server gets one, the client none", 1, y.event(Links.LOST_DOWN, 0, 0));
+        Checks.due("the server's misses", 0, y.look(3));
+        Checks.due("the client has six", 6, y.look(2));
+        Checks.due("down", 1, y.look(7));
+    }
+
+    /** In the sixth event itself the server still works on what it gets. */
+    private static void downFromTheEndOfTheSixth() {
+        Face x = Links.with(Links.BOTH, 1);
+        x.write(1, 9, 1, false);
+        for (int k = 0; k < 5; k++) {
+            x.event(Links.LOST_UP, 0, 0);
+        }
+        Checks.due("five are too few", 0, x.look(7));
+        Checks.due("it goes on", 0, x.outcome());
+        Checks.due("the server gets it", 1, x.event(Links.LOST_DOWN, 0, 0));
+        Checks.dueBytes("it is written", Links.bytes(9), Links.value(x, 1));
+        Checks.dueBytes("the server has answered", Links.bytes(1, 0, 4, 0, 19), Links.piece(x, true));
+        Checks.due("six", 1, x.look(7));
+        Checks.due("cut off", 4, x.outcome());
+        Checks.due("the event counts", 6, x.look(1));
+    }
+
+    private static void hostGoesOnWhenItIsDown() {
+        Face x = Links.broken();
+        Checks.due("another attribute", 2, x.attribute(1, 3, 5, 1));
+        Checks.due("its value", 5, x.value(2, 0));
+        Checks.due("put", 2, x.put(2, false, 6, 1));
+        Checks.due("down for good", 1, x.look(7));
+        Checks.due("the client's packet is known", 5, x.air(false, -1));
     }
 
     private static void wrongInputs() {

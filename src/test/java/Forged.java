@@ -8,6 +8,8 @@ final class Forged {
     final Face x;
     /** Whether the getter waits for the other turn than the one that the tail has. */
     private boolean otherTurn;
+    /** Whether the client is never told that its packet was there. */
+    private boolean holdsClient;
 
     Forged() {
         this(Links.fresh());
@@ -37,9 +39,25 @@ final class Forged {
         otherTurn = false;
     }
 
+    /** The client sends the same packet from now on, and its rows wait; it must have nothing to send now. */
+    void holdClient() {
+        holdsClient = true;
+    }
+
+    void releaseClient() {
+        holdsClient = false;
+    }
+
     /** The client gets these bytes, each in a piece of its own; what it has to send must be one piece at the most. */
     void clientGets(int... row) {
-        clientGetsPieces(Radio.OTHER_KIND, row);
+        clientGetsKinds(kinds(2, row.length), row);
+    }
+
+    private static int[] kinds(int first, int n) {
+        int[] kinds = new int[n];
+        java.util.Arrays.fill(kinds, 1);
+        kinds[0] = first;
+        return kinds;
     }
 
     /** The same on a link that has done nothing yet, but all pieces are of kind 1: no row has begun. */
@@ -48,14 +66,16 @@ final class Forged {
         x.event(Links.LOST_DOWN, 0, 0);
         x.event(0, Radio.spoil(Radio.FLIP_NEXT), 0);
         otherTurn = true;
-        clientGetsPieces(0, row);
+        clientGetsKinds(kinds(1, row.length), row);
     }
 
-    private void clientGetsPieces(int firstKind, int[] row) {
-        for (int k = 0; k < row.length; k++) {
-            int kind = k == 0 ? firstKind : 0;
+    /** The same with pieces of these kinds. */
+    void clientGetsKinds(int[] kinds, int... bytes) {
+        for (int k = 0; k < bytes.length; k++) {
             long up = otherTurn ? Radio.spoil(Radio.FLIP_NEXT) : 0;
-            x.event(0, up, Radio.spoil(kind ^ (otherTurn ? Radio.FLIP_TURN : 0), row[k]));
+            // The tail is of kind 1.
+            int head = (1 ^ kinds[k]) ^ (otherTurn ? Radio.FLIP_TURN : 0) ^ (holdsClient ? Radio.FLIP_NEXT : 0);
+            x.event(0, up, Radio.spoil(head, bytes[k]));
             otherTurn = !otherTurn;
         }
     }

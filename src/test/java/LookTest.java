@@ -1,10 +1,21 @@
 /** Promise 16: look. */
 public final class LookTest {
     public static void main(String[] args) {
-        Face x = Links.with(Links.BOTH, 1);
-        for (int what : new int[] {-1, 9, 10, Integer.MIN_VALUE, Integer.MAX_VALUE}) {
-            Checks.due("another what", -1, x.look(what));
+        anotherWhat();
+        each();
+        Checks.end();
+    }
+
+    private static void anotherWhat() {
+        for (Face x : new Face[] {Links.fresh(), Links.broken()}) {
+            for (int what : new int[] {-1, -2, 9, 10, 16, 256, Integer.MIN_VALUE, Integer.MAX_VALUE}) {
+                Checks.due("what " + what, -1, x.look(what));
+            }
         }
+    }
+
+    private static void each() {
+        Face x = Links.with(Links.BOTH, 1);
         Checks.due("no channel yet", -1, x.look(0));
         Checks.due("no event yet", 0, x.look(1));
         x.event(Links.LOST_UP, 0, 0);
@@ -32,6 +43,5 @@ public final class LookTest {
         Links.breakDown(x);
         Checks.due("down", 1, x.look(7));
         Checks.due("never confirmed", 1, x.look(8));
-        Checks.end();
     }
 }

@@ -2,14 +2,20 @@
 public final class OperationsTest {
     public static void main(String[] args) {
         agreesOnALimit();
+        limitOfTheAnswer();
         readsAll();
         readsAllWithAnotherLimit();
         readsAllKeepsSixteen();
+        requestsOfReadAll();
+        answersNearTheLimit();
+        requestsOfWriteAll();
+        requestsOfFind();
         finds();
         wrongAnswers();
         writeAllTakesBack();
         wrongEchoes();
         whatIsNoAnswer();
+        everyFirstByte();
         forgedFind();
         manyRowsOfTheServer();
         Checks.end();
@@ -39,6 +45,105 @@ public final class OperationsTest {
         Forged highest = new Forged();
         highest.getsInstead(() -> highest.x.begin(0, 255), 3, 200);
         Checks.due("at most 20", 20, highest.x.look(4));
+    }
+
+    /** The lesser of 18 and the second byte, but at least 8; or of 255 and it, but at most 20. */
+    private static void limitOfTheAnswer() {
+        int[][] saidAndDue = {{0, 8, 8}, {7, 8, 8}, {8, 8, 8}, {9, 9, 9}, {17, 17, 17}, {18, 18, 18}, {19, 18, 19},
+            {20, 18, 20}, {21, 18, 20}, {255, 18, 20}};
+        for (int[] three : saidAndDue) {
+            Forged lesser = new Forged();
+            lesser.getsInstead(() -> lesser.x.begin(0, 18), 3, three[0]);
+            Checks.due("18 and " + three[0], three[1], lesser.x.look(4));
+            Forged most = new Forged();
+            most.getsInstead(() -> most.x.begin(0, 255), 3, three[0], 99);
+            Checks.due("255 and " + three[0], three[2], most.x.look(4));
+            ends(most.x, 1, 0);
+        }
+        Forged wrong = new Forged();
+        wrong.getsInstead(() -> wrong.x.begin(0, 18), 3);
+        Checks.due("a wrong answer leaves the limit alone", 8, wrong.x.look(4));
+    }
+
+    private static void requests(Face x, String... due) {
+        Checks.dueLines("requests", java.util.List.of(due), Links.messages(x, false, 20));
+        Checks.due("done", 1, x.outcome());
+    }
+
+    private static Face reading(int limit, int n) {
+        Face x = Links.with(Links.READABLE, new int[n]);
+        Links.agree(x, limit);
+        x.begin(2, 1);
+        return x;
+    }
+
+    private static void requestsOfReadAll() {
+        requests(reading(8, 0), "[10, 1]");
+        requests(reading(8, 6), "[10, 1]");
+        requests(reading(8, 7), "[10, 1]", "[12, 1, 7]");
+        requests(reading(8, 8), "[10, 1]", "[12, 1, 7]");
+        requests(reading(8, 13), "[10, 1]", "[12, 1, 7]");
+        requests(reading(8, 14), "[10, 1]", "[12, 1, 7]", "[12, 1, 14]");
+        requests(reading(8, 16), "[10, 1]", "[12, 1, 7]", "[12, 1, 14]");
+        requests(reading(9, 16), "[10, 1]", "[12, 1, 8]");
+        requests(reading(16, 14), "[10, 1]");
+        requests(reading(16, 15), "[10, 1]", "[12, 1, 15]");
+        requests(reading(16, 16), "[10, 1]", "[12, 1, 15]");
+        requests(reading(17, 16), "[10, 1]");
+        requests(reading(20, 16), "[10, 1]");
+    }
+
+    /** The client's limit is 8. */
+    private static void answersNearTheLimit() {
+        for (int n = 6; n <= 10; n++) {
+            int[] answer = new int[n];
+            answer[0] = 11;
+            Forged forged = new Forged();
+            forged.getsInstead(() -> forged.x.begin(2, 1), answer);
+            Checks.due("an answer of " + n + " bytes", n == 8 ? 0 : 1, forged.x.outcome());
+            Checks.due("its data", n - 1, forged.x.data(-1));
+        }
+    }
+
+    private static Face writing(int limit, int n) {
+        Face x = Links.with(Links.WRITABLE, 1);
+        Links.agree(x, limit);
+        x.write(1, 0x0102030405060708L, n, true);
+        return x;
+    }
+
+    private static void requestsOfWriteAll() {
+        requests(writing(8, 0), "[22, 1, 0]", "[24, 1]");
+        requests(writing(8, 1), "[22, 1, 0, 8]", "[24, 1]");
+        requests(writing(8, 4), "[22, 1, 0, 5, 6, 7, 8]", "[24, 1]");
+        requests(writing(8, 5), "[22, 1, 0, 4, 5, 6, 7, 8]", "[24, 1]");
+        requests(writing(8, 6), "[22, 1, 0, 3, 4, 5, 6, 7]", "[22, 1, 5, 8]", "[24, 1]");
+        requests(writing(8, 8), "[22, 1, 0, 1, 2, 3, 4, 5]", "[22, 1, 5, 6, 7, 8]", "[24, 1]");
+        requests(writing(9, 8), "[22, 1, 0, 1, 2, 3, 4, 5, 6]", "[22, 1, 6, 7, 8]", "[24, 1]");
+        requests(writing(10, 8), "[22, 1, 0, 1, 2, 3, 4, 5, 6, 7]", "[22, 1, 7, 8]", "[24, 1]");
+        requests(writing(11, 8), "[22, 1, 0, 1, 2, 3, 4, 5, 6, 7, 8]", "[24, 1]");
+        requests(writing(20, 8), "[22, 1, 0, 1, 2, 3, 4, 5, 6, 7, 8]", "[24, 1]");
+    }
+
+    private static void requestsOfFind() {
+        Face x = Links.fresh();
+        for (int k = 0; k < 10; k++) {
+            x.attribute(k == 0 || k == 4 || k == 9 ? 255 : 0, 0, 0, 0);
+        }
+        x.begin(3, 255);
+        requests(x, "[16, 1, 255]", "[16, 2, 255]", "[16, 6, 255]", "[16, 11, 255]");
+        ends(x, 1, 0, 1, 5, 10);
+        Face none = Links.fresh();
+        none.begin(3, 0);
+        requests(none, "[16, 1, 0]");
+        ends(none, 1, 0);
+        Face ten = Links.fresh();
+        for (int k = 0; k < 10; k++) {
+            ten.attribute(0, 0, 0, 0);
+        }
+        ten.begin(3, 0);
+        Checks.due("ten requests", 10, Links.messages(ten, false, 20).size());
+        ends(ten, 1, 0, 1, 2, 3, 4, 5, 6, 7, 8, 9, 10);
     }
 
     private static void readsAll() {
@@ -205,6 +310,23 @@ public final class OperationsTest {
         none.getsInstead(() -> { }, 11, 5);
         Checks.dueNoSuchElement("an answer without a request", none.x::outcome);
         Checks.due("no data", 0, none.x.data(-1));
+    }
+
+    /** What begins with an odd byte is the answer to RAW, but for 27 and 29; even bytes are nothing. */
+    private static void everyFirstByte() {
+        for (int first = 0; first < 256; first++) {
+            Forged forged = new Forged();
+            forged.getsInstead(() -> forged.x.raw(Links.number(10, 1), 2), first, 77);
+            boolean isNote = first == 27 || first == 29;
+            boolean isAnswer = first % 2 == 1 && !isNote;
+            Checks.due("first byte " + first, isAnswer ? 1 : 0, forged.x.outcome());
+            Checks.due("its data", isAnswer ? 2 : 0, forged.x.data(-1));
+            if (isNote) {
+                Checks.dueBytes("a note", Links.bytes(77), Links.note(forged.x, 0));
+            } else {
+                Checks.dueNoSuchElement("no note", () -> forged.x.note(0, -1));
+            }
+        }
     }
 
     private static void forgedFind() {

@@ -7,6 +7,7 @@ public final class OutcomeTest {
     public static void main(String[] args) {
         ends();
         timesOut();
+        everyOperationTimesOut();
         waitsForThirtyEvents();
         countsFromTheLatestRequest();
         cutsOff();
@@ -40,6 +41,31 @@ public final class OutcomeTest {
         Checks.due("no error", 0, x.error());
         Links.breakDown(x);
         Checks.due("it stays so when the link is down", 3, x.outcome());
+    }
+
+    /** The server gets a good packet, but no row that is right, so that it has no answer. */
+    private static void everyOperationTimesOut() {
+        for (int operation = 0; operation <= 6; operation++) {
+            Face x = Links.with(Links.BOTH, 1);
+            if (operation <= 3) {
+                x.begin(operation, 1);
+            } else if (operation <= 5) {
+                x.write(1, 2, 1, operation == 5);
+            } else {
+                x.raw(Links.number(10, 1), 2);
+            }
+            Checks.due("a good packet", 3, x.event(0, Radio.silentSpoil(16), 0));
+            x.run(28);
+            Checks.due("operation " + operation + " after 29 events", 0, x.outcome());
+            x.run(1);
+            Checks.due("operation " + operation + " after 30 events", 3, x.outcome());
+            Checks.due("no error", 0, x.error());
+            Checks.due("no data", 0, x.data(-1));
+            x.tell(1, false);
+            x.run(1);
+            Checks.due("the link goes on", 1, x.note(0, 0));
+            Checks.due("it stays so", 3, x.outcome());
+        }
     }
 
     private static Face three() {

@@ -3,6 +3,7 @@ public final class PacketsTest {
     public static void main(String[] args) {
         highBitsDoNotCount();
         lengthMustFit();
+        lengthOfALongPacketMustFit();
         onlyEightBytesAreSpoilt();
         spoiltAcknowledgement();
         spoiltTurn();
@@ -27,6 +28,30 @@ public final class PacketsTest {
                 difference[k] = empty[k] ^ other[k];
             }
             Checks.due("length " + length, 0, x.event(0, Links.number(difference), 0));
+        }
+        Face y = Links.fresh();
+        int[] answer = Radio.packet(1, 1, 0);
+        for (int length : new int[] {1, 7, 8, 255}) {
+            int[] other = Radio.checked(answer[0], length);
+            int[] difference = new int[8];
+            for (int k = 0; k < 5; k++) {
+                difference[k] = answer[k] ^ other[k];
+            }
+            Checks.due("the server's, length " + length, 1, y.event(0, 0, Links.number(difference)));
+        }
+    }
+
+    /** The check is right, but the length is not that of the piece. */
+    private static void lengthOfALongPacketMustFit() {
+        for (int length = 0; length < 256; length += length < 16 ? 1 : 48) {
+            Face x = Links.with(Links.BOTH, 1);
+            x.begin(1, 1);
+            Checks.due("six bytes said to be " + length, length == 6 ? 3 : 0,
+                    x.event(0, Radio.silentSpoil(0, 6 ^ length), 0));
+            Face y = Links.with(Links.BOTH, 1);
+            y.tell(1, false);
+            Checks.due("seven bytes said to be " + length, length == 7 ? 3 : 1,
+                    y.event(0, 0, Radio.silentSpoil(0, 7 ^ length)));
         }
     }
 

@@ -2,6 +2,15 @@
 public final class PiecesTest {
     public static void main(String[] args) {
         ofSevenBytes();
+        lastOneOfFewer();
+        theRowThatWaitsLongest();
+        nothingBetweenPieces();
+        beginsAnewInTheMiddle();
+        noneHasBegunBehindADroppedRow();
+        noneHasBegunBehindADoneRow();
+        emptyMessage();
+        eightRowsOfTheClientWait();
+        nineRowsWithARequest();
         otherKinds();
         beginsAnew();
         rowsOfTheServer();
@@ -29,6 +38,140 @@ public final class PiecesTest {
         Checks.due("done", 1, x.outcome());
         x.run(1);
         Checks.dueBytes("nothing behind it", Links.bytes(), Links.piece(x, true));
+    }
+
+    /** Each piece's bytes, the first one of kind 2, and an empty packet behind the last one. */
+    private static void pieces(String what, Face x, boolean server, int... sizes) {
+        for (int k = 0; k <= sizes.length; k++) {
+            x.run(1);
+            int size = k < sizes.length ? sizes[k] : 0;
+            Checks.due(what + ", piece " + k, size, Links.piece(x, server).length);
+            Checks.due(what + ", kind of piece " + k, k == 0 ? 2 : 1, Links.packet(x, server)[0] & 3);
+        }
+    }
+
+    private static void lastOneOfFewer() {
+        int[][] sizes = {{}, {5}, {6}, {7}, {7, 1}, {7, 2}, {7, 3}, {7, 4}, {7, 5}};
+        for (int n = 1; n <= 8; n++) {
+            Face x = Links.fresh();
+            x.raw(0, n);
+            pieces(n + " bytes of the client", x, false, sizes[n]);
+        }
+        Face ten = Links.with(Links.BOTH, 1);
+        Links.agree(ten, 20);
+        ten.write(1, 0, 8, false);
+        pieces("10 bytes", ten, false, 7, 7);
+        int[][] told = {{6}, {7}, {7, 1}, {7, 2}, {7, 3}, {7, 4}, {7, 5}, {7, 6}, {7, 7}, {7, 7, 1}, {7, 7, 2}, {7, 7, 3},
+            {7, 7, 4}, {7, 7, 5}, {7, 7, 6}, {7, 7, 7}, {7, 7, 7, 1}};
+        for (int n = 0; n <= 16; n++) {
+            Face x = Links.with(Links.BOTH, new int[n]);
+            Links.agree(x, 20);
+            x.tell(1, false);
+            pieces(n + " bytes told", x, true, told[n]);
+            Checks.due(n + " bytes told", n + 1, x.note(0, -1));
+        }
+        Forged twenty = new Forged();
+        twenty.serverGets(Forged.row(22, 1, 0, 1, 2, 3, 4, 5, 6, 7, 8, 9, 10, 11, 12, 13, 14, 15, 16, 17));
+        Checks.due("20 bytes, the first piece", 7, Links.piece(twenty.x, true).length);
+        for (int size : new int[] {7, 7, 3, 0}) {
+            twenty.x.run(1);
+            Checks.due("20 bytes, a piece behind it", size, Links.piece(twenty.x, true).length);
+        }
+    }
+
+    private static void theRowThatWaitsLongest() {
+        Face x = Links.with(Links.BOTH, 1, 2, 3, 4, 5);
+        Links.add(x, 1, Links.BOTH, 6);
+        x.tell(1, false);
+        x.tell(2, true);
+        x.tell(1, false);
+        x.begin(1, 2);
+        java.util.List<String> due = java.util.List.of("[27, 1, 1, 2, 3, 4, 5]", "[29, 2, 6]",
+                "[27, 1, 1, 2, 3, 4, 5]", "[11, 6]");
+        Checks.dueLines("one row behind the other", due, Links.messages(x, true, 8));
+    }
+
+    private static void nothingBetweenPieces() {
+        for (int kind : new int[] {0, 3}) {
+            Forged forged = new Forged();
+            forged.holdServer();
+            forged.clientGetsKinds(Links.bytes(2, kind, 1, 1, 1, 1, kind, kind, 1, 1),
+                    3, 99, 0, 4, 0, 27, 98, 97, 77, 5);
+            Checks.dueBytes("kind " + kind + " leaves the row alone", Links.bytes(77, 5), Links.note(forged.x, 0));
+        }
+    }
+
+    private static void beginsAnewInTheMiddle() {
+        Forged forged = new Forged();
+        forged.holdServer();
+        forged.clientGetsKinds(Links.bytes(2, 1, 1, 1, 1, 2, 1, 1, 1, 1, 1), 3, 0, 4, 0, 27, 2, 0, 4, 0, 27, 78);
+        Checks.dueBytes("the row that was begun last", Links.bytes(78), Links.note(forged.x, 0));
+    }
+
+    private static void noneHasBegunBehindADroppedRow() {
+        int[][] dropped = {{21}, {255}, {3, 0, 5, 0}, {3, 1, 4, 0}, {3, 0, 4, 4}};
+        for (int[] row : dropped) {
+            Forged forged = new Forged();
+            forged.holdServer();
+            forged.clientGets(row);
+            forged.clientGetsKinds(Links.bytes(1, 1, 1, 1, 1, 1, 1), Forged.row(27, 77, 5));
+            Checks.dueNoSuchElement("behind " + row.length + " bytes of a dropped row", () -> forged.x.note(0, -1));
+            forged.clientGets(Forged.row(27, 77, 5));
+            Checks.dueBytes("a row that begins", Links.bytes(77, 5), Links.note(forged.x, 0));
+        }
+    }
+
+    private static void noneHasBegunBehindADoneRow() {
+        Forged forged = new Forged();
+        forged.holdServer();
+        forged.clientGets(Forged.row(27, 77, 5));
+        forged.clientGetsKinds(Links.bytes(1, 1, 1, 1, 1, 1, 1), Forged.row(27, 78, 6));
+        Checks.dueBytes("still the first", Links.bytes(77, 5), Links.note(forged.x, 0));
+        Checks.dueNoSuchElement("and no other", () -> forged.x.note(1, -1));
+    }
+
+    private static void emptyMessage() {
+        Forged forged = new Forged();
+        forged.getsInstead(() -> forged.x.raw(Links.number(10, 1), 2), new int[0]);
+        Checks.due("no answer", 0, forged.x.outcome());
+        forged.clientGetsKinds(Links.bytes(1, 1, 1), 27, 77, 5);
+        Checks.dueNoSuchElement("it was done", () -> forged.x.note(0, -1));
+        forged.clientGets(Forged.row(27, 77, 5));
+        Checks.dueBytes("a row behind it", Links.bytes(77, 5), Links.note(forged.x, 0));
+    }
+
+    /** A client that is told nothing of its packet, and gets what it has to confirm. */
+    private static Forged confirming(int rows) {
+        Forged forged = new Forged();
+        forged.holdServer();
+        forged.holdClient();
+        for (int k = 0; k < rows; k++) {
+            forged.clientGets(Forged.row(29, k));
+            Checks.due("the note is kept", k, forged.x.note(0, 0));
+        }
+        return forged;
+    }
+
+    private static java.util.List<String> released(Forged forged) {
+        forged.releaseClient();
+        forged.x.run(1);
+        return Links.messages(forged.x, false, 12);
+    }
+
+    private static void eightRowsOfTheClientWait() {
+        for (int rows = 7; rows <= 10; rows++) {
+            Checks.due(rows + " to be confirmed", Math.min(8, rows), released(confirming(rows)).size());
+        }
+    }
+
+    private static void nineRowsWithARequest() {
+        for (int rows = 7; rows <= 8; rows++) {
+            Forged forged = confirming(rows);
+            forged.x.begin(1, Forged.READ_ME);
+            java.util.List<String> sent = released(forged);
+            Checks.due("eight rows are sent", 8, sent.size());
+            Checks.dueTrue("the request is one of them, if seven waited", sent.contains("[10, 1]") == (rows == 7));
+        }
     }
 
     private static void otherKinds() {

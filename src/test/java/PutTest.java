@@ -3,6 +3,7 @@ public final class PutTest {
     public static void main(String[] args) {
         behindAndInPlace();
         upToSixteen();
+        everyLength();
         wrongInputs();
         Checks.end();
     }
@@ -32,6 +33,26 @@ public final class PutTest {
         Checks.dueIllegalArgument("n is looked at first", () -> x.put(1, false, 0, 9));
         Checks.due("anew", 8, x.put(1, true, 0, 8));
         Checks.due("the other attribute is left alone", 5, x.value(2, 0));
+    }
+
+    private static void everyLength() {
+        for (int before = 0; before <= 16; before++) {
+            for (int n = 0; n <= 8; n++) {
+                int[] old = new int[before];
+                java.util.Arrays.fill(old, 7);
+                Face x = Links.with(0, old);
+                int more = n;
+                if (before + n > 16) {
+                    Checks.dueIllegalState(n + " behind " + before, () -> x.put(1, false, 0, more));
+                    Checks.dueBytes("a refused put leaves the value alone", old, Links.value(x, 1));
+                } else {
+                    Checks.due(n + " behind " + before, before + n, x.put(1, false, 0, n));
+                    Checks.dueBytes("the value", java.util.Arrays.copyOf(old, before + n), Links.value(x, 1));
+                }
+                Checks.due(n + " in the place of " + before, n, x.put(1, true, 0, n));
+                Checks.dueBytes("the value", new int[n], Links.value(x, 1));
+            }
+        }
     }
 
     private static void wrongInputs() {

@@ -2,7 +2,9 @@
 public final class RawTest {
     public static void main(String[] args) {
         sendsAsItIs();
+        everyNumberOfBytes();
         takesAnyAnswer();
+        takesAnswersOfAnyLength();
         wrongInputs();
         Checks.end();
     }
@@ -18,6 +20,30 @@ public final class RawTest {
         Checks.dueBytes("the answer", Links.bytes(19), Links.data(x));
         Checks.dueBytes("eight bytes", Links.bytes(23, 1, 1, 2, 3, 4, 5, 6), Links.ask(x, 22, 1, 1, 2, 3, 4, 5, 6));
         Checks.dueBytes("a negative number", Links.bytes(1, 255, 0, 6), Links.ask(x, 255, 255, 255, 255, 255, 255, 255, 255));
+    }
+
+    private static void everyNumberOfBytes() {
+        int[] all = {0x91, 0x92, 0x93, 0x94, 0x95, 0x96, 0x97, 0x98};
+        for (int n = 1; n <= 8; n++) {
+            Face x = Links.fresh();
+            x.raw(Links.number(all), n);
+            String due = java.util.Arrays.toString(java.util.Arrays.copyOfRange(all, 8 - n, 8));
+            Checks.dueLines("the lowest " + n, java.util.List.of(due), Links.messages(x, false, 3));
+        }
+    }
+
+    private static void takesAnswersOfAnyLength() {
+        for (int n = 1; n <= 20; n++) {
+            int[] answer = new int[n];
+            java.util.Arrays.fill(answer, n);
+            answer[0] = 1;
+            Forged forged = new Forged();
+            forged.getsInstead(() -> forged.x.raw(Links.number(10, 1), 2), answer);
+            Checks.dueBytes("an answer of " + n + " bytes", answer, Links.data(forged.x));
+            Checks.due("done", 1, forged.x.outcome());
+            Checks.due("no error", 0, forged.x.error());
+            Checks.dueOutOfBounds("no byte behind it", () -> forged.x.data(answer.length));
+        }
     }
 
     private static void takesAnyAnswer() {

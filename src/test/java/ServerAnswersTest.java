@@ -6,14 +6,21 @@ public final class ServerAnswersTest {
         limits();
         reads();
         readsFromAPlace();
+        readsFromEveryPlace();
         finds();
         writes();
         keepsParts();
         writesParts();
         writesPartsOfTheLastHandle();
         refusesParts();
+        firstWrongPartDecides();
+        placesOfParts();
+        fourPartsOfManyHandles();
         confirms();
+        confirmsNothing();
         wrongSizes();
+        wrongSizesOfLongMessages();
+        everyOtherFirstByte();
         orderOfErrors();
         Checks.end();
     }
@@ -58,6 +65,25 @@ public final class ServerAnswersTest {
         answers(x, Links.bytes(12, 1, 255), 1, 12, 1, 7);
         answers(x, Links.bytes(12, 2, 0), 1, 12, 2, 2);
         answers(x, Links.bytes(12, 3, 0), 1, 12, 3, 1);
+    }
+
+    private static void readsFromEveryPlace() {
+        for (int limit : new int[] {8, 9, 16, 17, 18, 20}) {
+            for (int n : new int[] {0, 1, 7, 8, 15, 16}) {
+                Face x = Links.with(Links.READABLE, java.util.Arrays.copyOf(SIXTEEN, n));
+                Links.agree(x, limit);
+                for (int place : new int[] {0, 1, n - 1, n}) {
+                    if (place >= 0 && place <= n) {
+                        int[] due = new int[1 + Math.min(limit - 1, n - place)];
+                        due[0] = 13;
+                        System.arraycopy(SIXTEEN, place, due, 1, due.length - 1);
+                        answers(x, Links.bytes(12, 1, place), due);
+                    }
+                }
+                answers(x, Links.bytes(12, 1, n + 1), 1, 12, 1, 7);
+                answers(x, Links.bytes(12, 1, 255), 1, 12, 1, 7);
+            }
+        }
     }
 
     private static void finds() {
@@ -165,6 +191,64 @@ public final class ServerAnswersTest {
         answers(x, Links.bytes(24, 0), 25);
     }
 
+    private static void firstWrongPartDecides() {
+        Face x = Links.with(Links.BOTH, SIXTEEN);
+        x.attribute(1, Links.BOTH, 3, 1);
+        Links.ask(x, 22, 2, 2);
+        Links.ask(x, 22, 1, 16, 1);
+        answers(x, Links.bytes(24, 1), 1, 24, 0, 7);
+        Links.ask(x, 22, 1, 16, 1);
+        Links.ask(x, 22, 2, 2);
+        answers(x, Links.bytes(24, 1), 1, 24, 0, 13);
+        Links.ask(x, 22, 2, 1, 8);
+        Links.ask(x, 22, 2, 3);
+        answers(x, Links.bytes(24, 1), 1, 24, 0, 7);
+        Checks.dueBytes("nothing is written", Links.bytes(3), Links.value(x, 2));
+        Checks.due("nothing is kept", 0, x.look(6));
+    }
+
+    /** Each place of a value of each length: a gap is error 7, more than sixteen error 13. */
+    private static void placesOfParts() {
+        for (int n : new int[] {0, 1, 8, 15, 16}) {
+            for (int place : new int[] {0, 1, 7, 8, 9, 14, 15, 16, 17, 255}) {
+                for (int more = 0; more <= 3; more++) {
+                    int[] old = java.util.Arrays.copyOf(SIXTEEN, n);
+                    Face x = Links.with(Links.BOTH, old);
+                    int[] part = {22, 1, place, 77, 77, 77};
+                    Links.ask(x, java.util.Arrays.copyOf(part, 3 + more));
+                    int code = place > n ? 7 : place + more > 16 ? 13 : 0;
+                    answers(x, Links.bytes(24, 1), code == 0 ? Links.bytes(25) : Links.bytes(1, 24, 0, code));
+                    int[] due = code == 0 ? overlaid(old, place, more) : old;
+                    Checks.dueBytes(n + " bytes, " + more + " at " + place, due, Links.value(x, 1));
+                }
+            }
+        }
+    }
+
+    private static int[] overlaid(int[] old, int place, int more) {
+        int[] row = java.util.Arrays.copyOf(old, Math.max(old.length, place + more));
+        java.util.Arrays.fill(row, place, place + more, 77);
+        return row;
+    }
+
+    private static void fourPartsOfManyHandles() {
+        Face x = Links.fresh();
+        for (int k = 0; k < 5; k++) {
+            x.attribute(1, Links.BOTH, 0, 0);
+        }
+        for (int round = 0; round < 2; round++) {
+            for (int handle = 1; handle <= 4; handle++) {
+                answers(x, Links.bytes(22, handle, 0, handle), 23, handle, 0, handle);
+            }
+            answers(x, Links.bytes(22, 5, 0, 5), 1, 22, 5, 9);
+            Checks.due("four are kept", 4, x.look(6));
+            answers(x, Links.bytes(24, 1), 25);
+            Checks.due("none is kept", 0, x.look(6));
+        }
+        Checks.due("the fourth is written", 4, x.value(4, 0));
+        Checks.due("the fifth is not", 0, x.value(5, -1));
+    }
+
     private static void confirms() {
         Face x = Links.with(Links.BOTH, 1, 2, 3);
         for (int k = 0; k < 3; k++) {
@@ -184,6 +268,38 @@ public final class ServerAnswersTest {
         Checks.due("30 confirms what is still on its way", 0, y.look(8));
         y.run(29);
         Checks.due("and is not answered", 3, y.outcome());
+    }
+
+    private static void confirmsNothing() {
+        for (int n = 1; n <= 2; n++) {
+            Face x = Links.with(Links.BOTH, 1);
+            x.raw(n == 1 ? 30 : Links.number(30, 30), n);
+            Checks.dueLines("no answer", java.util.List.of(), Links.messages(x, true, 29));
+            Checks.due("nothing is indicated", 0, x.look(8));
+            Checks.due("it waits", 0, x.outcome());
+        }
+    }
+
+    /** Up to twenty bytes come in a row; only 18 and 22 may have that many. */
+    private static void wrongSizesOfLongMessages() {
+        for (int first : new int[] {2, 10, 12, 16, 24, 20}) {
+            Forged forged = new Forged();
+            int[] message = new int[20];
+            message[0] = first;
+            message[1] = 1;
+            Checks.dueBytes(first + " with twenty bytes", Links.bytes(1, first, 0, first == 20 ? 6 : 4),
+                    forged.answerTo(message));
+        }
+    }
+
+    private static void everyOtherFirstByte() {
+        java.util.List<Integer> known = java.util.List.of(2, 10, 12, 16, 18, 22, 24, 30);
+        for (int first = 0; first < 256; first++) {
+            if (!known.contains(first)) {
+                Face x = Links.with(Links.BOTH, 1);
+                answers(x, Links.bytes(first, 1), 1, first, 0, 6);
+            }
+        }
     }
 
     private static void wrongSizes() {

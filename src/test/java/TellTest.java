@@ -4,6 +4,9 @@ public final class TellTest {
         tells();
         indicates();
         cutsToTheLimit();
+        everyLimitAndLength();
+        threeFourAndFiveRows();
+        confirmedOnlyByTheClient();
         rowsThatWait();
         wrongInputs();
         Checks.end();
@@ -57,6 +60,75 @@ public final class TellTest {
         x.tell(1, false);
         x.run(5);
         Checks.dueBytes("an empty value", Links.bytes(1), Links.note(x, 0));
+    }
+
+    private static void everyLimitAndLength() {
+        int[] all = {1, 2, 3, 4, 5, 6, 7, 8, 9, 10, 11, 12, 13, 14, 15, 16};
+        for (int limit = 8; limit <= 20; limit++) {
+            for (int n = 0; n <= 16; n++) {
+                Face x = Links.with(0, java.util.Arrays.copyOf(all, n));
+                Links.agree(x, limit);
+                x.tell(1, n % 2 == 0);
+                x.run(5);
+                int[] due = new int[1 + Math.min(n, limit - 2)];
+                due[0] = 1;
+                System.arraycopy(all, 0, due, 1, due.length - 1);
+                Checks.dueBytes("limit " + limit + ", " + n + " bytes", due, Links.note(x, 0));
+            }
+        }
+        Face x = Links.with(0, all);
+        Links.ask(x, 2, 20);
+        Checks.due("the client's limit does not count", 8, x.look(4));
+        x.tell(1, false);
+        x.run(5);
+        Checks.due("the server's does", 17, x.note(0, -1));
+    }
+
+    private static void threeFourAndFiveRows() {
+        Face x = Links.with(Links.BOTH, 1);
+        for (int k = 0; k < 3; k++) {
+            x.tell(1, false);
+        }
+        x.tell(1, true);
+        Checks.due("a fourth row may be indicated", 1, x.look(8));
+        Checks.dueIllegalState("four wait", () -> x.tell(1, false));
+        x.begin(1, 1);
+        x.run(1);
+        Checks.dueIllegalState("three and the answer wait", () -> x.tell(1, false));
+        x.run(1);
+        x.tell(1, false);
+        Checks.dueIllegalState("four again", () -> x.tell(1, false));
+        Face y = Links.with(Links.BOTH, 1, 2, 3);
+        for (int k = 0; k < 4; k++) {
+            y.tell(1, false);
+        }
+        y.begin(1, 1);
+        y.run(1);
+        Checks.dueIllegalState("five wait", () -> y.tell(1, false));
+        y.run(1);
+        Checks.dueIllegalState("four wait", () -> y.tell(1, false));
+        y.run(1);
+        Checks.dueIllegalState("four wait, one of them begun", () -> y.tell(1, false));
+        y.run(1);
+        y.tell(1, false);
+        Checks.dueIllegalState("four again", () -> y.tell(1, false));
+    }
+
+    private static void confirmedOnlyByTheClient() {
+        Face x = Links.with(Links.BOTH, 1);
+        x.tell(1, true);
+        x.event(Links.LOST_DOWN, 0, 0);
+        Checks.dueIllegalState("lost on its way", () -> x.tell(1, true));
+        x.event(0, 0, 0);
+        Checks.dueIllegalState("it is there", () -> x.tell(1, true));
+        x.event(Links.LOST_UP, 0, 0);
+        Checks.dueIllegalState("the confirmation is lost", () -> x.tell(1, true));
+        Checks.due("not confirmed", 1, x.look(8));
+        x.tell(1, false);
+        x.event(Links.LOST_DOWN, 0, 0);
+        Checks.due("confirmed", 0, x.look(8));
+        x.tell(1, true);
+        Checks.due("the next one", 1, x.look(8));
     }
 
     private static void rowsThatWait() {

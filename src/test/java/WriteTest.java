@@ -4,6 +4,8 @@ public final class WriteTest {
         writes();
         writesAll();
         writesAllWithErrors();
+        mostBytesOfWrite();
+        everyNumberOfBytes();
         wrongInputs();
         Checks.end();
     }
@@ -82,6 +84,47 @@ public final class WriteTest {
         x.run(10);
         Checks.due("the older part has a wrong place", 7, x.error());
         Checks.due("nothing is written", 0, x.value(2, -1));
+    }
+
+    /** At most the client's limit - 2; WRITE ALL takes eight in any case. */
+    private static void mostBytesOfWrite() {
+        for (int limit : new int[] {8, 9, 10, 11, 20}) {
+            for (int n = 5; n <= 8; n++) {
+                Face x = Links.with(Links.BOTH, 1);
+                Links.agree(x, limit);
+                int more = n;
+                if (n > limit - 2) {
+                    Checks.dueIllegalArgument(n + " with limit " + limit, () -> x.write(1, 0, more, false));
+                    Checks.due("LIMIT is still the latest one", 1, x.outcome());
+                    x.write(1, 0, n, true);
+                } else {
+                    x.write(1, 0, n, false);
+                }
+                x.run(20);
+                Checks.due("done", 1, x.outcome());
+                Checks.due(n + " with limit " + limit, n, x.value(1, -1));
+            }
+        }
+    }
+
+    private static void everyNumberOfBytes() {
+        int[] all = {0x91, 0x92, 0x93, 0x94, 0x95, 0x96, 0x97, 0x98};
+        for (int n = 0; n <= 8; n++) {
+            int[] due = java.util.Arrays.copyOfRange(all, 8 - n, 8);
+            for (boolean whole : new boolean[] {false, true}) {
+                Face x = Links.with(Links.BOTH);
+                Links.agree(x, 20);
+                x.write(1, Links.number(all), n, whole);
+                x.run(20);
+                Checks.dueBytes("the lowest " + n, due, Links.value(x, 1));
+            }
+        }
+        for (int handle : new int[] {0, 255}) {
+            Face x = Links.with(Links.BOTH, 1);
+            x.write(handle, 0, 1, true);
+            x.run(5);
+            Checks.due("handle " + handle + " may be asked for", 1, x.error());
+        }
     }
 
     private static void wrongInputs() {
