@@ -5,9 +5,10 @@ import java.util.Random;
  * against the model. The seeds are fixed, so that each run is the same one every time.
  */
 public final class RandomRunsTest {
-    private static final int RUNS = 800;
+    private static final int RUNS = 1200;
     private static final int FORGED_RUNS = 600;
-    private static final int STEPS = 300;
+    /** The picture in the end needs the rest of the 512 calls. */
+    private static final int STEPS = 180;
     private static final int[] EDGES = {Integer.MIN_VALUE, -2, -1, 0, 1, 3, 4, 5, 7, 8, 9, 10, 11, 16, 17, 20, 21, 40,
         41, 255, 256, Integer.MAX_VALUE};
     private static final int[] LIMITS = {0, 7, 8, 9, 10, 11, 12, 17, 18, 19, 20, 21, 255};

@@ -41,6 +41,15 @@ public final class RefusedTest {
         busy.refusesWrongBytes();
         busy.refusesWrongNotes();
         busy.refuses("seventeen bytes", STATE, x -> x.put(1, false, 7, 1));
+        RefusedTest writing = new RefusedTest("WRITE ALL in its middle", 1, RefusedTest::writing);
+        writing.refusesWrongArguments();
+        writing.refusesOperations();
+        RefusedTest waiting = new RefusedTest("no answer comes", 1, RefusedTest::waiting);
+        waiting.refusesWrongArguments();
+        waiting.refusesOperations();
+        RefusedTest fifteen = new RefusedTest("fifteen bytes", 1, RefusedTest::fifteen);
+        fifteen.refuses("seventeen bytes", STATE, x -> x.put(1, false, 7, 2));
+        fifteen.refuses("twenty-three bytes", STATE, x -> x.put(1, false, 7, 8));
         RefusedTest indicated = new RefusedTest("one is indicated", 1, RefusedTest::indicated);
         indicated.refusesWrongArguments();
         indicated.refuses("to indicate another one", STATE, x -> x.tell(1, true));
@@ -74,7 +83,7 @@ public final class RefusedTest {
     private static Face full() {
         Face x = fresh();
         for (int k = 0; k < 10; k++) {
-            x.attribute(k, k % 4, k, k % 3);
+            x.attribute(k, k % 4, k, 1 + k % 3);
         }
         x.begin(1, 2);
         x.run(5);
@@ -87,8 +96,6 @@ public final class RefusedTest {
         x.put(1, false, 0x1112131415161718L, 8);
         x.attribute(8, Links.BOTH, 0x2122, 2);
         x.attribute(9, 0, 0, 0);
-        x.begin(0, 9);
-        x.run(5);
         x.raw(Links.number(22, 2, 0, 5), 4);
         for (int k = 0; k < 4; k++) {
             x.put(2, true, 0x2122 + k, 2);
@@ -104,6 +111,26 @@ public final class RefusedTest {
         return x;
     }
 
+    private static Face writing() {
+        Face x = one();
+        x.write(1, 0x3132333435363738L, 8, true);
+        x.run(2);
+        return x;
+    }
+
+    private static Face waiting() {
+        Face x = one();
+        x.raw(30, 1);
+        x.run(10);
+        return x;
+    }
+
+    private static Face fifteen() {
+        Face x = one();
+        x.put(1, false, 0x11121314151617L, 7);
+        return x;
+    }
+
     private static Face indicated() {
         Face x = one();
         x.tell(1, true);
@@ -113,6 +140,8 @@ public final class RefusedTest {
 
     private static Face failed() {
         Face x = one();
+        x.begin(0, 9);
+        x.run(3);
         x.begin(2, 1);
         x.run(2);
         x.put(1, true, 0, 0);

@@ -22,6 +22,7 @@ public final class ServerAnswersTest {
         wrongSizesOfLongMessages();
         everyOtherFirstByte();
         orderOfErrors();
+        errorsChangeNothing();
         Checks.end();
     }
 
@@ -316,6 +317,29 @@ public final class ServerAnswersTest {
         Checks.due("the limit stays", 8, x.look(5));
         Checks.due("no part is kept", 0, x.look(6));
         Checks.dueBytes("the value stays", Links.bytes(1), Links.value(x, 1));
+    }
+
+    private static void errorsChangeNothing() {
+        int[][] wrong = {{2}, {2, 9, 9}, {10}, {10, 9}, {10, 2}, {12, 1, 4}, {12, 2, 0}, {12, 1}, {16, 4, 1}, {16, 1, 9},
+            {16, 1}, {18}, {18, 3, 1}, {18, 0, 1}, {22, 3, 0, 1}, {22, 9, 0, 1}, {22, 1}, {24}, {24, 2}, {24, 1, 1},
+            {7}, {31, 1}, {29, 1, 5}};
+        for (int[] message : wrong) {
+            Face x = Links.with(Links.BOTH, 1, 2, 3);
+            Links.add(x, 1, Links.WRITABLE, 4);
+            Links.add(x, 1, Links.READABLE, 5);
+            Links.agree(x, 12);
+            Links.ask(x, 22, 1, 3, 9);
+            Checks.due("an error", 1, Links.ask(x, message)[0]);
+            Checks.due("the client's limit", 12, x.look(4));
+            Checks.due("the server's limit", 12, x.look(5));
+            Checks.due("one part is kept", 1, x.look(6));
+            Checks.due("nothing is indicated", 0, x.look(8));
+            Checks.dueBytes("the first value", Links.bytes(1, 2, 3), Links.value(x, 1));
+            Checks.dueBytes("the second value", Links.bytes(4), Links.value(x, 2));
+            Checks.dueBytes("the third value", Links.bytes(5), Links.value(x, 3));
+            answers(x, Links.bytes(24, 1), 25);
+            Checks.dueBytes("the part is the one that was kept", Links.bytes(1, 2, 3, 9), Links.value(x, 1));
+        }
     }
 
     private static void orderOfErrors() {
