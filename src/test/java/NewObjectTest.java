@@ -10,7 +10,41 @@ public final class NewObjectTest {
         Face one = Links.with(Links.BOTH, 1);
         isNew(Links.fresh());
         Checks.due("another object is left alone", 1, one.value(1, -1));
+        objectsAreApart();
         Checks.end();
+    }
+
+    /** Two objects that are used in turns answer as each one does alone. */
+    private static void objectsAreApart() {
+        Face first = new Program(1, -1, -1);
+        Face second = new Program(4, 0xFF, 0);
+        Face firstAlone = new Program(1, -1, -1);
+        Face secondAlone = new Program(4, 0xFF, 0);
+        for (int k = 0; k < 12; k++) {
+            step(first, k, 0);
+            step(second, k, 7);
+        }
+        for (int k = 0; k < 12; k++) {
+            step(firstAlone, k, 0);
+        }
+        for (int k = 0; k < 12; k++) {
+            step(secondAlone, k, 7);
+        }
+        Checks.dueLines("the first of two", Picture.of(firstAlone), Picture.of(first));
+        Checks.dueLines("the second of two", Picture.of(secondAlone), Picture.of(second));
+    }
+
+    private static void step(Face x, int k, int more) {
+        if (k == 0) {
+            Links.add(x, 1, Links.BOTH, 1, 2, 3, 4, 5, 6, 7, 8, 9, 10 + more);
+            x.tell(1, more > 0);
+            x.begin(2, 1);
+        }
+        if (k == 6) {
+            x.put(1, true, more, 1);
+            x.tell(1, false);
+        }
+        x.event(k == 3 ? Links.LOST_DOWN : 0, k == 1 ? more : 0, 0);
     }
 
     private static void isNew(Face x) {
